@@ -1,0 +1,215 @@
+import java.lang.reflect.InvocationTargetException;
+import java.lang.reflect.Method;
+import java.lang.reflect.Modifier;
+import java.util.ArrayList;
+import java.util.Arrays;
+import java.util.Comparator;
+import java.util.HashMap;
+import java.util.List;
+import java.util.Map;
+import java.util.Random;
+import java.util.TreeMap;
+
+/** Random runs of calls, each asked of the class and of the oracle; every answer and every exception has to be alike. */
+public final class RandomRunsTest {
+    private static final int CALLS = 500;
+    private static final int[] ODD = {-1, Integer.MIN_VALUE, Integer.MAX_VALUE, 4, 8, 9, 10, 24, 100};
+
+    private final Random random;
+    private final Twotalk house = new Twotalk();
+    private final Oracle oracle = new Oracle();
+    private final List<String> calls = new ArrayList<>();
+    private final Map<String, Method> methods;
+    private final Map<String, Integer> tally;
+    private boolean isWrong;
+
+    private RandomRunsTest(long seed, Map<String, Method> methods, Map<String, Integer> tally) {
+        random = new Random(seed);
+        this.methods = methods;
+        this.tally = tally;
+    }
+
+    public static void main(String[] args) {
+        long first = args.length > 0 ? Long.parseLong(args[0]) : 1;
+        long runs = args.length > 1 ? Long.parseLong(args[1]) : 400;
+        Map<String, Method> methods = new HashMap<>();
+        List<Method> all = new ArrayList<>(Arrays.asList(Twotalk.class.getDeclaredMethods()));
+        all.sort(Comparator.comparing(Method::getName));
+        for (Method method : all) {
+            if (Modifier.isPublic(method.getModifiers())) {
+                methods.put(method.getName(), method);
+            }
+        }
+        Map<String, Integer> tally = new TreeMap<>();
+        int wrong = 0;
+        for (long seed = first; seed < first + runs && wrong < 5; seed++) {
+            RandomRunsTest run = new RandomRunsTest(seed, methods, tally);
+            run.go();
+            if (run.isWrong) {
+                wrong++;
+                System.out.println("seed " + seed + ":\n  " + String.join("\n  ", run.calls));
+            }
+        }
+        if (args.length > 2) {
+            tally.forEach((kind, count) -> System.out.println(kind + " " + count));
+        }
+        System.out.println(wrong == 0 ? "all answers are as due" : "answers are not as due");
+        System.exit(wrong == 0 ? 0 : 1);
+    }
+
+    private void go() {
+        int style = random.nextInt(4);
+        while (calls.size() < CALLS && !isWrong) {
+            int kind = random.nextInt(20);
+            if (kind < 4) {
+                tellSome(style);
+            } else if (kind < 8) {
+                makeGraph(style);
+            } else if (kind == 8) {
+                ask("example", random.nextInt(6) - (random.nextInt(20) == 0 ? 1 : 0));
+            } else if (kind == 9) {
+                ask("smallest", small(4), small(4));
+            } else if (kind < 12) {
+                saySome();
+            } else if (kind == 12 && random.nextInt(3) == 0) {
+                ask("digest");
+            } else {
+                for (int i = 0; i < 8; i++) {
+                    askAny();
+                }
+            }
+        }
+        ask("digest");
+    }
+
+    private int small(int end) {
+        return random.nextInt(60) == 0 ? ODD[random.nextInt(ODD.length)] : random.nextInt(end);
+    }
+
+    private void tellSome(int style) {
+        build(1 + random.nextInt(style == 0 ? 5 : 10), style, true);
+        ask("tell", small(8));
+    }
+
+    private void makeGraph(int style) {
+        build(1 + random.nextInt(style == 3 ? 16 : 12), style, random.nextInt(3) > 0);
+        ask("graph", small(4));
+        if (random.nextInt(3) > 0) {
+            ask("drop");
+        }
+    }
+
+    /** Builds a term of about a size by calls. */
+    private void build(int size, int style, boolean isNamed) {
+        if (size <= 1) {
+            if (isNamed && random.nextInt(3) > 0) {
+                ask("name", small(style == 1 ? 3 : 8));
+            } else {
+                ask("nil");
+            }
+            return;
+        }
+        int kind = random.nextInt(style == 2 ? 9 : 12);
+        if (kind < 5 || size == 2) {
+            build(size - 1, style, isNamed);
+            ask("step", random.nextInt(60) == 0 ? small(9) : random.nextInt(style == 1 ? 6 : 9));
+        } else if (kind < 9) {
+            int left = 1 + random.nextInt(size - 1);
+            build(left, style, isNamed);
+            build(size - left, style, isNamed);
+            ask(kind < 7 ? "either" : "beside");
+        } else if (kind < 11) {
+            build(size - 1, style, isNamed);
+            ask("hide", small(4));
+        } else {
+            build(size - 1, style, isNamed);
+            ask("rename", small(4), small(4));
+        }
+    }
+
+    private void saySome() {
+        int turns = 1 + random.nextInt(5);
+        for (int i = 0; i < turns; i++) {
+            ask("say", random.nextInt(40) == 0 ? small(6) : new int[] {0, 0, 1, 2, 3, 3, 4, 5, 5}[random.nextInt(9)],
+                    random.nextInt(30) == 0 ? ODD[random.nextInt(ODD.length)] : random.nextInt(9));
+        }
+    }
+
+    private void askAny() {
+        String[] plain = {"text", "meant", "isGuarded", "ofGraph", "ofState", "steps", "term", "which", "isEverAgain",
+            "isAlike", "isAlike", "round", "word", "refusal", "sentence", "sentence", "game", "classes", "unsay", "said",
+            "depth", "isTrue", "isTrue", "may", "must", "form", "proof", "knock", "house", "isSound", "drop"};
+        String call = plain[random.nextInt(plain.length)];
+        switch (call) {
+            case "text" -> ask(call, small(3));
+            case "meant", "isGuarded" -> ask(call, small(8));
+            case "ofGraph" -> ask(call, small(4), small(6));
+            case "which" -> ask(call, small(4), random.nextBoolean());
+            case "isEverAgain" -> ask(call, small(4), small(9));
+            case "classes" -> ask(call, small(4), random.nextInt(30) == 0 ? small(2) : 2 + random.nextInt(3));
+            case "may", "must" -> ask(call, small(4), small(4));
+            case "house" -> ask(call, small(10));
+            case "ofState", "steps", "term", "isTrue", "form", "proof" -> {
+                int n = small(4);
+                int p = state(n);
+                if (call.equals("ofState")) {
+                    ask(call, n, p, small(6));
+                } else {
+                    ask(call, n, p);
+                }
+            }
+            case "isAlike", "round", "word", "refusal", "sentence", "game" -> askTwo(call);
+            default -> ask(call);
+        }
+    }
+
+    private void askTwo(String call) {
+        int n = small(4);
+        int m = small(4);
+        int p = random.nextInt(3) == 0 ? 0 : state(n);
+        int q = random.nextInt(3) == 0 ? 0 : state(m);
+        if (call.equals("isAlike")) {
+            ask(call, small(5), n, p, m, q);
+        } else if (call.equals("round") || call.equals("sentence")) {
+            ask(call, n, p, m, q, random.nextBoolean());
+        } else {
+            ask(call, n, p, m, q);
+        }
+    }
+
+    private int state(int n) {
+        if (n < 0 || n > 3 || random.nextInt(60) == 0) {
+            return small(4);
+        }
+        return random.nextInt(oracle.ofGraph(n, 0));
+    }
+
+    private void ask(String call, Object... values) {
+        if (isWrong || calls.size() >= CALLS + 10) {
+            return;
+        }
+        try {
+            Method own = methods.get(call);
+            Object due = answer(oracle, Oracle.class.getMethod(call, own.getParameterTypes()), values);
+            Object got = answer(house, own, values);
+            calls.add(call + Arrays.toString(values) + " = " + got);
+            tally.merge(call + (got.toString().startsWith("throws.") ? " " + got : ""), 1, Integer::sum);
+            if (!due.equals(got)) {
+                isWrong = true;
+                calls.add("due is " + due);
+            }
+        } catch (NoSuchMethodException e) {
+            throw new IllegalStateException(e);
+        }
+    }
+
+    private static Object answer(Object of, Method method, Object[] values) {
+        try {
+            return method.invoke(of, values);
+        } catch (InvocationTargetException e) {
+            return "throws." + e.getCause().getClass().getSimpleName();
+        } catch (IllegalAccessException e) {
+            throw new IllegalStateException(e);
+        }
+    }
+}
