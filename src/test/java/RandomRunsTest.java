@@ -58,10 +58,15 @@ public final class RandomRunsTest {
     }
 
     private void go() {
-        int style = random.nextInt(4);
+        int style = random.nextInt(10);
+        if (style >= 4) {
+            tellMachine(style);
+        }
         while (calls.size() < CALLS && !isWrong) {
             int kind = random.nextInt(20);
-            if (kind < 4) {
+            if (style >= 4 && kind < 8) {
+                makeMachine(style);
+            } else if (kind < 4) {
                 tellSome(style);
             } else if (kind < 8) {
                 makeGraph(style);
@@ -95,8 +100,95 @@ public final class RandomRunsTest {
         build(1 + random.nextInt(style == 3 ? 16 : 12), style, random.nextInt(3) > 0);
         ask("graph", small(4));
         if (random.nextInt(3) > 0) {
+            dropRest();
+        }
+    }
+
+    private void dropRest() {
+        while (oracle.house(0) > 0 && !isWrong && calls.size() < CALLS) {
             ask("drop");
         }
+    }
+
+    /** Tells all names in one another, behind steps, so that their graphs are large and go round. */
+    private void tellMachine(int style) {
+        for (int k = 0; k < 8; k++) {
+            machineTerm(style, k);
+            ask("tell", k);
+        }
+    }
+
+    /** A style of deep choices over few acts for many words, one without rounds for forms, and others. */
+    private void machineTerm(int style, int k) {
+        if (style == 8) {
+            for (int i = 0; i < 2; i++) {
+                for (int j = 0; j < 2; j++) {
+                    ask("name", random.nextInt(8));
+                    ask("step", 1 + j);
+                }
+                ask("either");
+                ask("step", 1 + i);
+                if (random.nextInt(4) == 0) {
+                    ask("name", random.nextInt(8));
+                    ask("step", 1 + i);
+                    ask("either");
+                }
+            }
+            ask("either");
+        } else if (style == 9) {
+            summands(style, Math.max(k, 1));
+        } else {
+            summands(style, 8);
+        }
+    }
+
+    private void summands(int style, int names) {
+        int count = style == 7 ? 3 + random.nextInt(3) : style == 8 ? 2 : 1 + random.nextInt(style == 9 ? 4 : 3);
+        for (int i = 0; i < count; i++) {
+            if (random.nextInt(12) == 0 || style == 9 && names == 1) {
+                ask("nil");
+            } else {
+                ask("name", style == 9 ? Math.max(0, names - 1 - random.nextInt(3)) : random.nextInt(names));
+            }
+            int steps = style == 8 ? 1 : 1 + random.nextInt(style == 7 ? 1 : 2);
+            for (int j = 0; j < steps; j++) {
+                ask("step", machineAct(style));
+            }
+            if (i > 0) {
+                ask("either");
+            }
+        }
+    }
+
+    private int machineAct(int style) {
+        if (style == 5) {
+            return random.nextInt(2) == 0 ? 0 : 1 + random.nextInt(4);
+        }
+        if (style == 9) {
+            return random.nextInt(5) == 0 ? 2 : random.nextInt(8) == 0 ? 0 : 1;
+        }
+        return style == 4 || style == 8 ? 1 + random.nextInt(2) : style == 7 ? 1 + random.nextInt(3) : random.nextInt(5);
+    }
+
+    /** Tells one name anew at times, and makes a graph of one, or of two side by side. */
+    private void makeMachine(int style) {
+        if (random.nextInt(3) == 0) {
+            int k = random.nextInt(8);
+            machineTerm(style, k);
+            ask("tell", k);
+        }
+        int kind = random.nextInt(5);
+        ask("name", random.nextInt(8));
+        if (kind > 2) {
+            ask("name", random.nextInt(8));
+            ask("beside");
+            ask("hide", random.nextInt(4));
+        }
+        if (kind == 2) {
+            ask("rename", random.nextInt(4), random.nextInt(4));
+        }
+        ask("graph", random.nextInt(4));
+        dropRest();
     }
 
     /** Builds a term of about a size by calls. */
@@ -168,6 +260,10 @@ public final class RandomRunsTest {
         int m = small(4);
         int p = random.nextInt(3) == 0 ? 0 : state(n);
         int q = random.nextInt(3) == 0 ? 0 : state(m);
+        if (random.nextInt(6) == 0) {
+            m = n;
+            q = p;
+        }
         if (call.equals("isAlike")) {
             ask(call, small(5), n, p, m, q);
         } else if (call.equals("round") || call.equals("sentence")) {
