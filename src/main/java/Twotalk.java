@@ -962,7 +962,7 @@ public final class Twotalk {
     /** Writes all texts into one builder, which is used again by each call. */
     private static final class Pen {
         private static final int SEEN = 128;
-        private final StringBuilder out = new StringBuilder(TEXT_BOUND);
+        private final StringBuilder out = new StringBuilder();
         private final int[] open = new int[TEXT_BOUND];
 
         void clear() {
@@ -1007,7 +1007,7 @@ public final class Twotalk {
 
         void putSet(int set) {
             boolean isFirst = true;
-            for (int p = 0; p < STATES; p++) {
+            for (int p = 0; p < STATES && set >> p != 0; p++) {
                 if ((set >> p & 1) == 1) {
                     if (!isFirst) {
                         out.append(' ');
@@ -1022,7 +1022,7 @@ public final class Twotalk {
             boolean isFirst = true;
             for (int act = 0; act < ACTS; act++) {
                 int set = graph.go[p * ACTS + act];
-                for (int q = 0; q < STATES; q++) {
+                for (int q = 0; q < STATES && set >> q != 0; q++) {
                     if ((set >> q & 1) == 1) {
                         if (!isFirst) {
                             out.append(' ');
@@ -1252,7 +1252,7 @@ public final class Twotalk {
             if (numberOf(nodes.load(start)) < 0) {
                 return false;
             }
-            for (int p = 0; p < count; p++) {
+            for (int p = 0; p < count && p < STATES; p++) {
                 if (!unfold(states[p]) || !link(p, into)) {
                     return false;
                 }
@@ -1550,8 +1550,9 @@ public final class Twotalk {
         private int heightOf(int p) {
             int highest = 0;
             for (int act = 0; act < ACTS; act++) {
-                for (int q = 0; q < count; q++) {
-                    if ((go[p * ACTS + act] >> q & 1) == 1) {
+                int set = go[p * ACTS + act];
+                for (int q = 0; q < count && set >> q != 0; q++) {
+                    if ((set >> q & 1) == 1) {
                         if (height[q] == NONE) {
                             return NONE;
                         }
@@ -1565,7 +1566,7 @@ public final class Twotalk {
         /** All states to which a state of the set comes by the act. */
         int behind(int set, int act, int[] by) {
             int all = 0;
-            for (int p = 0; p < count; p++) {
+            for (int p = 0; p < count && set >> p != 0; p++) {
                 if ((set >> p & 1) == 1) {
                     all |= by[p * ACTS + act];
                 }
@@ -1665,10 +1666,10 @@ public final class Twotalk {
             int found = 1;
             order[0] = 0;
             Arrays.fill(go, 0);
-            for (int p = 0; p < found; p++) {
+            for (int p = 0; p < found && p < STATES; p++) {
                 for (int act = 0; act < ACTS; act++) {
                     int ahead = smallestOf(from, from.go[order[p] * ACTS + act], rounds, first);
-                    for (int q = 0; q < from.count; q++) {
+                    for (int q = 0; q < from.count && ahead >> q != 0; q++) {
                         if ((ahead >> q & 1) == 1) {
                             int at = placeOf(q, found);
                             if (at == found && found < STATES) {
@@ -1689,7 +1690,7 @@ public final class Twotalk {
         /** For each state of a set, the smallest one that is alike with it. */
         private static int smallestOf(Graph from, int set, Rounds rounds, int first) {
             int smallest = 0;
-            for (int q = 0; q < from.count; q++) {
+            for (int q = 0; q < from.count && set >> q != 0; q++) {
                 if ((set >> q & 1) == 1) {
                     smallest |= 1 << rounds.firstAlike(first, first + q) - first;
                 }
@@ -1741,7 +1742,11 @@ public final class Twotalk {
                 Arrays.fill(low, 0);
                 Arrays.fill(high, 0);
                 for (int slot = 0; slot < slots; slot++) {
-                    gather(slot);
+                    if (look == BRANCHES) {
+                        gatherBranches(slot);
+                    } else {
+                        gather(slot);
+                    }
                 }
                 if (!split()) {
                     break;
@@ -1753,10 +1758,6 @@ public final class Twotalk {
 
         private boolean isState(int slot) {
             return slot % STATES < graphs[slot / STATES].count;
-        }
-
-        private boolean isApart(int turn, int slot, int other) {
-            return past[turn * slots + slot] != past[turn * slots + other];
         }
 
         /** Of the graph whose slots begin at a place, all states that are not alike with a slot at a round. */
@@ -1771,11 +1772,11 @@ public final class Twotalk {
         }
 
         int firstApart(int slot, int other) {
-            if (!isApart(last, slot, other)) {
+            if (past[last * slots + slot] == past[last * slots + other]) {
                 return NONE;
             }
             for (int turn = 1; turn < last; turn++) {
-                if (isApart(turn, slot, other)) {
+                if (past[turn * slots + slot] != past[turn * slots + other]) {
                     return turn;
                 }
             }
@@ -1785,7 +1786,7 @@ public final class Twotalk {
         /** The first slot, from a place on, that is alike with a slot. */
         int firstAlike(int from, int slot) {
             for (int other = from; other < slot; other++) {
-                if (!isApart(last, other, slot)) {
+                if (past[last * slots + other] == past[last * slots + slot]) {
                     return other;
                 }
             }
@@ -1796,7 +1797,7 @@ public final class Twotalk {
             int pairs = 0;
             for (int slot = 0; slot < slots; slot++) {
                 for (int other = 0; other < slot && isState(slot); other++) {
-                    if (isState(other) && !isApart(last, slot, other)) {
+                    if (past[last * slots + slot] == past[last * slots + other]) {
                         pairs++;
                     }
                 }
@@ -1821,17 +1822,18 @@ public final class Twotalk {
             if (p >= graph.count) {
                 return;
             }
-            if (look == BRANCHES) {
-                gatherBranches(slot, graph, p);
-                return;
-            }
             int[] by = look == UNSEEN ? graph.weak : graph.go;
             for (int act = 0; act < ACTS; act++) {
                 note(slot, act, by[p * ACTS + act]);
             }
         }
 
-        private void gatherBranches(int slot, Graph graph, int p) {
+        private void gatherBranches(int slot) {
+            Graph graph = graphs[slot / STATES];
+            int p = slot % STATES;
+            if (p >= graph.count) {
+                return;
+            }
             int alike = alikeInGraph(slot);
             int near = 1 << p;
             for (int turn = 0; turn < graph.count; turn++) {
@@ -1857,7 +1859,7 @@ public final class Twotalk {
         /** Notes by which act one comes from a slot to whom, as of the round ahead. */
         private void note(int slot, int act, int set) {
             int first = slot - slot % STATES;
-            for (int q = 0; q < STATES; q++) {
+            for (int q = 0; q < STATES && set >> q != 0; q++) {
                 if ((set >> q & 1) == 1) {
                     int whom = past[last * slots + first + q];
                     if (whom < 64) {
@@ -1880,7 +1882,7 @@ public final class Twotalk {
                     while (now < slot && !isSame(from, slot, now)) {
                         now++;
                     }
-                    isParting |= now != past[from + slot];
+                    isParting = isParting || now != past[from + slot];
                 }
                 past[from + slots + slot] = (byte) now;
             }
@@ -1921,7 +1923,7 @@ public final class Twotalk {
             Arrays.fill(heads, NONE);
             count = 0;
             put(first.weak[p * ACTS], second.weak[q * ACTS], NONE, 0);
-            for (int at = 0; at < count; at++) {
+            for (int at = 0; at < count && at < PAIRS; at++) {
                 if (isUnlike(isRefusal, first, one[at], second, other[at])) {
                     found = at;
                     return at;
@@ -1989,7 +1991,7 @@ public final class Twotalk {
 
         /** Whether all that is refused here is refused there: by a state that can do no more. */
         private static boolean isCovered(Graph first, int here, Graph second, int there) {
-            for (int p = 0; p < first.count; p++) {
+            for (int p = 0; p < first.count && here >> p != 0; p++) {
                 if ((here >> p & 1) == 1 && !isRefused(second, there, ~first.can[p])) {
                     return false;
                 }
@@ -1998,7 +2000,7 @@ public final class Twotalk {
         }
 
         private static boolean isRefused(Graph graph, int states, int acts) {
-            for (int p = 0; p < graph.count; p++) {
+            for (int p = 0; p < graph.count && states >> p != 0; p++) {
                 if ((states >> p & 1) == 1 && (graph.can[p] & acts) == 0) {
                     return true;
                 }
@@ -2011,6 +2013,7 @@ public final class Twotalk {
     private static final class Parting {
         private static final int SIDE = STATES * STATES;
         private static final int PAIRS = 2 * SIDE;
+        private static final int UNKNOWN = -2;
         private final Nodes nodes = new Nodes();
         private final Row draft = new Row(TEXT_BOUND);
         private final int[] needed = new int[PAIRS];
@@ -2022,33 +2025,31 @@ public final class Twotalk {
         private final int[] truthsThere = new int[PAIRS];
         private final int[] parts = new int[STATES];
         private int count;
+        /** These three stand in for those that each call sets, so that none is ever null. */
         private Graph here = new Graph();
         private Graph there = here;
+        private Rounds rounds = new Rounds(STEPS, 1);
+        private int hereAt;
+        private int thereAt;
         private boolean isUnseen;
 
-        /** Finds, for each two states of both graphs, when they are parted and how the sentence of them begins. */
+        /** Sets on which graphs, and by which rounds, the calls that follow look. */
         void prepare(Graph[] graphs, int n, int m, Rounds by, boolean isBlind) {
             if (n < 0 || n >= graphs.length || m < 0 || m >= graphs.length) {
                 return;
             }
             here = graphs[n];
             there = graphs[m];
+            hereAt = n * STATES;
+            thereAt = m * STATES;
+            rounds = by;
             isUnseen = isBlind;
-            Arrays.fill(acts, NONE);
-            for (int p = 0; p < here.count; p++) {
-                for (int q = 0; q < there.count; q++) {
-                    int turn = by.firstApart(n * STATES + p, m * STATES + q);
-                    turns[pairOf(0, p, q)] = turn;
-                    turns[pairOf(1, q, p)] = turn;
-                    findAttack(pairOf(0, p, q), by, n * STATES, m * STATES);
-                    findAttack(pairOf(1, q, p), by, m * STATES, n * STATES);
-                }
-            }
+            Arrays.fill(acts, UNKNOWN);
         }
 
         /** The round at which p here and q there are parted. */
         int apartAt(int p, int q) {
-            return turns[pairOf(0, p, q)];
+            return rounds.firstApart(hereAt + p, thereAt + q);
         }
 
         /** Writes the sentence that parts p here from q there; fails if it is too long. */
@@ -2118,9 +2119,9 @@ public final class Twotalk {
             int set = answersTo(base);
             int latest = NONE;
             int latestTurn = 0;
-            for (int q = 0; q < STATES; q++) {
+            for (int q = 0; q < STATES && set >> q != 0; q++) {
                 if ((set >> q & 1) == 1) {
-                    int turn = turns[pairOf(side, targets[base], q)];
+                    int turn = side == 0 ? apartAt(targets[base], q) : apartAt(q, targets[base]);
                     if (turn > latestTurn) {
                         latest = q;
                         latestTurn = turn;
@@ -2132,6 +2133,9 @@ public final class Twotalk {
 
         private int behind(int side, int p, int act) {
             Graph graph = side == 0 ? here : there;
+            if (act < 0 || p >= graph.count) {
+                return 0;
+            }
             return isUnseen ? graph.weak[p * ACTS + act] : graph.go[p * ACTS + act];
         }
 
@@ -2145,24 +2149,35 @@ public final class Twotalk {
          */
         private int baseOf(int side, int p, int q) {
             int pair = pairOf(side, p, q);
-            return acts[pair] != NONE ? pair : pairOf(1 - side, q, p);
+            if (acts[pair] == UNKNOWN) {
+                findAttack(pair, side, p, q);
+            }
+            if (acts[pair] != NONE) {
+                return pair;
+            }
+            int turned = pairOf(1 - side, q, p);
+            if (acts[turned] == UNKNOWN) {
+                findAttack(turned, 1 - side, q, p);
+            }
+            return turned;
         }
 
         private static int pairOf(int side, int p, int q) {
             return side * SIDE + p * STATES + q;
         }
 
-        /** The first act and step of the first one, behind which it is parted ahead from all answers. */
-        private void findAttack(int pair, Rounds by, int first, int second) {
-            int side = pair / SIDE;
-            int p = pair % SIDE / STATES;
-            int q = pair % STATES;
-            for (int act = 0; act < ACTS && turns[pair] > 0; act++) {
+        /** Finds the first act and step of p behind which it is parted ahead from all answers of q, or NONE. */
+        private void findAttack(int pair, int side, int p, int q) {
+            int first = side == 0 ? hereAt : thereAt;
+            int second = side == 0 ? thereAt : hereAt;
+            int turn = rounds.firstApart(first + p, second + q);
+            turns[pair] = turn;
+            acts[pair] = NONE;
+            for (int act = 0; act < ACTS && turn > 0; act++) {
                 int set = behind(side, p, act);
                 int answers = behind(1 - side, q, act);
-                for (int to = 0; to < STATES; to++) {
-                    if ((set >> to & 1) == 1
-                            && (answers & ~by.apartFrom(turns[pair] - 1, first + to, second)) == 0) {
+                for (int to = 0; to < STATES && set >> to != 0; to++) {
+                    if ((set >> to & 1) == 1 && (answers & ~rounds.apartFrom(turn - 1, first + to, second)) == 0) {
                         acts[pair] = act;
                         targets[pair] = to;
                         return;
@@ -2177,10 +2192,10 @@ public final class Twotalk {
             needed[0] = start;
             values[start] = 0;
             count = 1;
-            for (int i = 0; i < count; i++) {
+            for (int i = 0; i < count && i < PAIRS; i++) {
                 int pair = needed[i];
                 int answers = answersTo(pair);
-                for (int q = 0; q < STATES; q++) {
+                for (int q = 0; q < STATES && answers >> q != 0; q++) {
                     if ((answers >> q & 1) == 1) {
                         int base = baseOf(pair / SIDE, targets[pair], q);
                         if (values[base] == NONE && count < PAIRS) {
@@ -2202,12 +2217,12 @@ public final class Twotalk {
             int answers = answersTo(pair);
             int side = pair / SIDE;
             int found = 0;
-            for (int q = 0; q < STATES; q++) {
+            for (int q = 0; q < STATES && answers >> q != 0; q++) {
                 if ((answers >> q & 1) == 1) {
                     parts[found] = valueFor(side, baseOf(side, targets[pair], q));
                     boolean isNew = true;
                     for (int i = 0; i < found; i++) {
-                        isNew &= parts[i] != parts[found];
+                        isNew = isNew && parts[i] != parts[found];
                     }
                     found += isNew ? 1 : 0;
                 }
@@ -2227,7 +2242,7 @@ public final class Twotalk {
             int deepest = 0;
             int bodyHere = here.all();
             int bodyThere = there.all();
-            for (int q = 0; q < STATES; q++) {
+            for (int q = 0; q < STATES && answers >> q != 0; q++) {
                 if ((answers >> q & 1) == 1) {
                     int base = baseOf(side, targets[pair], q);
                     boolean isTurned = base / SIDE != side;
@@ -2269,7 +2284,7 @@ public final class Twotalk {
                 for (int x = 0; x < tested.count; x++) {
                     int more = surelyOn(tested, tester, x) & met[x] & ~sure[x];
                     sure[x] |= more;
-                    isMore |= more != 0;
+                    isMore = isMore || more != 0;
                 }
             }
             return (sure[0] & 1) == 1;
@@ -2296,7 +2311,7 @@ public final class Twotalk {
                 if ((pairs & ~sure[to]) != 0) {
                     return false;
                 }
-                isOn |= pairs != 0;
+                isOn = isOn || pairs != 0;
             }
             return isOn;
         }
@@ -2320,7 +2335,7 @@ public final class Twotalk {
             for (int turn = 0; turn < STATES * STATES && isMore; turn++) {
                 isMore = false;
                 for (int x = 0; x < tested.count; x++) {
-                    isMore |= meetFrom(tested, tester, x, met[x] & ~ends);
+                    isMore = meetFrom(tested, tester, x, met[x] & ~ends) || isMore;
                 }
             }
         }
@@ -2331,7 +2346,7 @@ public final class Twotalk {
                 int next = act == 0 ? set : tester.behind(set, Sign.partner(act), tester.go);
                 for (int to = 0; to < tested.count && next != 0; to++) {
                     if ((tested.go[x * ACTS + act] >> to & 1) == 1) {
-                        isMore |= meet(to, next);
+                        isMore = meet(to, next) || isMore;
                     }
                 }
             }
@@ -2435,7 +2450,7 @@ public final class Twotalk {
             itemCount = 0;
             for (int act = 0; act < ACTS; act++) {
                 int targets = sameTargets(p, act);
-                for (int q = 0; q < graph.count; q++) {
+                for (int q = 0; q < graph.count && targets >> q != 0; q++) {
                     if ((targets >> q & 1) == 1) {
                         sortIn(q * ACTS + act);
                     }

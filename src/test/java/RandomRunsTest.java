@@ -58,13 +58,17 @@ public final class RandomRunsTest {
     }
 
     private void go() {
-        int style = random.nextInt(10);
-        if (style >= 4) {
+        int style = random.nextInt(11);
+        if (style == 10) {
+            tellFloors();
+        } else if (style >= 4) {
             tellMachine(style);
         }
         while (calls.size() < CALLS && !isWrong) {
             int kind = random.nextInt(20);
-            if (style >= 4 && kind < 8) {
+            if (style == 10 && kind < 8) {
+                makeFloors();
+            } else if (style >= 4 && kind < 8) {
                 makeMachine(style);
             } else if (kind < 4) {
                 tellSome(style);
@@ -116,6 +120,60 @@ public final class RandomRunsTest {
             machineTerm(style, k);
             ask("tell", k);
         }
+    }
+
+    /** Names on whose floors sentences double, with a fault here and there: for texts of some 400 signs. */
+    private static final String[] FLOORS = {"(a.(a.b.0+a.d.0)+a.(a.b.0+a.c.0))", "(a.(a.c.0+a.d.0)+a.(a.b.0+a.c.0))",
+        "(a.(a.c.0+a.d.0)+a.(a.b.0+a.d.0))", "(a.(a.X0+a.X2)+a.(a.X0+a.X1))", "(a.(a.X1+a.X2)+a.(a.X0+a.X1))",
+        "(a.(a.X1+a.X2)+a.(a.X0+a.X2))", "(a.(a.X3+a.X5)+a.(a.X3+a.X4))", "(a.(a.X4+a.X5)+a.(a.X3+a.X4))"};
+
+    private void tellFloors() {
+        for (int k = 0; k < 6; k++) {
+            askTerm(faulty(FLOORS[k], random.nextInt(8) == 0), 0);
+            ask("tell", k);
+        }
+    }
+
+    private void makeFloors() {
+        int k = random.nextInt(3) == 0 ? 3 + random.nextInt(3) : 6 + random.nextInt(2);
+        askTerm(faulty(FLOORS[k], random.nextInt(3) == 0), 0);
+        ask("graph", random.nextInt(4));
+        dropRest();
+        for (int i = 0; i < 4; i++) {
+            ask("sentence", random.nextInt(4), 0, random.nextInt(4), 0, random.nextBoolean());
+        }
+    }
+
+    /** The text with another letter in one place, if it is to be faulty. */
+    private String faulty(String text, boolean isFaulty) {
+        StringBuilder changed = new StringBuilder(text);
+        int at = random.nextInt(text.length());
+        if (isFaulty && text.charAt(at) >= 'a' && text.charAt(at) <= 'd') {
+            changed.setCharAt(at, "abcdA".charAt(random.nextInt(5)));
+        } else if (isFaulty && text.charAt(at) == '.' && text.charAt(at + 1) != '(') {
+            changed.insert(at + 1, "a.");
+        }
+        return changed.toString();
+    }
+
+    private int askTerm(String text, int from) {
+        char sign = text.charAt(from);
+        if (sign == '0') {
+            ask("nil");
+            return from + 1;
+        }
+        if (sign == 'X') {
+            ask("name", text.charAt(from + 1) - '0');
+            return from + 2;
+        }
+        if (sign == '(') {
+            int at = askTerm(text, askTerm(text, from + 1) + 1);
+            ask("either");
+            return at + 1;
+        }
+        int at = askTerm(text, from + 2);
+        ask("step", "tabcdABCD".indexOf(sign));
+        return at;
     }
 
     /** A style of deep choices over few acts for many words, one without rounds for forms, and others. */
