@@ -848,11 +848,8 @@ public final class Twotalk {
             return code == EITHER ? '+' : code == BESIDE ? '|' : code == BOTH ? '&' : isHide(code) ? '-' : ':';
         }
 
-        /** How many characters of a text are the sign's own. */
+        /** How many characters of a sentence's text are the sign's own; a term's length is never asked for. */
         static int width(int code) {
-            if (code < TRUE) {
-                return code == NIL ? 1 : code < EITHER ? 2 : code < HIDE ? 3 : code < RENAME ? 4 : 5;
-            }
             return code < BOTH ? 1 : 3;
         }
     }

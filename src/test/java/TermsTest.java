@@ -254,6 +254,9 @@ public final class TermsTest {
         guarded("", "0=X1", "1=X1");
         guarded("2", "0=(X2+X1)", "1=(a.0|X1)", "2=a.X1");
         guarded("1", "0=(X1+X3)", "1=b.X0");
+        guarded("", "1=X0", "0=X2");
+        guarded("", "1=(X0|a.0)", "0=(X2:ab)", "2=(b.0+X2)");
+        guarded("37", "7=X3", "3=a.X7", "6=(X7+X5)", "5=X4", "4=X5");
         guarded("01234567", "0=X1", "1=X2", "2=X3", "3=X4", "4=X5", "5=X6", "6=X7", "7=t.X0");
         guarded("", "0=X1", "1=X2", "2=X3", "3=X4", "4=X5", "5=X6", "6=X7", "7=(a.0+X0)");
         Twotalk x = Due.house("0=X1");
