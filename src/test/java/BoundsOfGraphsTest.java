@@ -2,6 +2,8 @@
 public final class BoundsOfGraphsTest {
     private static final String STEPS_24 = "a.a.a.a.a.a.a.a.a.a.a.a.a.a.a.a.a.a.a.a.a.a.a.0";
     private static final String STILL_23 = "(((((((((((((((((((((((0" + "-a)".repeat(23);
+    private static final String LETTERS = "tabcdABCD";
+    private static final String CHANNELS = "abcd";
     private static final String SUM = "((((X0+X1)+(X2+X3))+(X4+X5))+(X6+X7))";
     private static final String[] ALL_TOLD = {"0=b.0", "1=b.0", "2=b.0", "3=b.0", "4=b.0", "5=b.0", "6=b.0", "7=b.0"};
 
@@ -12,6 +14,9 @@ public final class BoundsOfGraphsTest {
         graphIfNotGuarded();
         graphIfMetLater();
         graphOfNil();
+        hiddenActs();
+        renamedActs();
+        partners();
         statesInARow();
         statesOfOneState();
         statesBeside();
@@ -19,6 +24,9 @@ public final class BoundsOfGraphsTest {
         sizeOfStatesThatGrow();
         thingsOfAState();
         thingsBeside();
+        thingsOfBothSides();
+        thingsOfManyTerms();
+        thingsOfManyTexts();
         thingsOfATermInIt();
         thingsOfWhatANameMeans();
         thingsBehindAStep();
@@ -135,6 +143,45 @@ public final class BoundsOfGraphsTest {
         keeps(1, "all that stands still", topped("(((0|0)+(0-a))|((0:ab)|X1))", "1=0"));
     }
 
+    /** "HIDE what its TERM can, but ACTS of its CHANNEL": each act, by each channel; t has none */
+    private static void hiddenActs() {
+        for (int act = 0; act < 9; act++) {
+            for (int channel = 0; channel < 4; channel++) {
+                String term = "(" + LETTERS.charAt(act) + ".0-" + CHANNELS.charAt(channel) + ")";
+                boolean isHidden = act != 0 && (act - 1) % 4 == channel;
+                Edge.allowed(isHidden ? "" : LETTERS.charAt(act) + "1", "steps of " + term, graphed(term),
+                        x -> x.steps(1, 0));
+            }
+        }
+    }
+
+    /** "RENAME .. (those of the second one stay as they are)": each act, by each two channels, also twice the same */
+    private static void renamedActs() {
+        for (int act = 0; act < 9; act++) {
+            for (int pair = 0; pair < 16; pair++) {
+                String term = "(" + LETTERS.charAt(act) + ".0:" + CHANNELS.charAt(pair / 4) + CHANNELS.charAt(pair % 4)
+                        + ")";
+                boolean isRenamed = act != 0 && (act - 1) % 4 == pair / 4;
+                int due = isRenamed ? (act - 1) / 4 * 4 + pair % 4 + 1 : act;
+                Edge.allowed(LETTERS.charAt(due) + "1", "steps of " + term, graphed(term), x -> x.steps(1, 0));
+            }
+        }
+    }
+
+    /** "if both can do PARTNERS, t": "to take and to offer on the same CHANNEL", each act with each */
+    private static void partners() {
+        for (int one = 0; one < 9; one++) {
+            for (int other = 0; other < 9; other++) {
+                String term = "(" + LETTERS.charAt(one) + ".0|" + LETTERS.charAt(other) + ".0)";
+                boolean isTogether = one != 0 && other != 0 && Math.abs(one - other) == 4;
+                int due = 2 + (isTogether ? 1 : 0);
+                Edge.allowed(due, "how many steps " + term + " has", graphed(term), x -> x.ofState(1, 0, 0));
+                Edge.allowed(isTogether || one == 0 || other == 0, "whether " + term + " goes by t", graphed(term),
+                        x -> x.steps(1, 0).startsWith("t1"));
+            }
+        }
+    }
+
     /** "BOUND of a GRAPH: 24 STATES": one behind the other; the last one goes on, or back, or to one too many */
     private static void statesInARow() {
         keeps(23, "23 states", topped(STEPS_24.substring(2)));
@@ -236,6 +283,49 @@ public final class BoundsOfGraphsTest {
         Edge.allowed(60, "60 steps", wide("(" + most + "|a.0)", five), x -> x.graph(0) == 14 ? x.ofState(0, 0, 0) : 0);
         breaks("48 and 6 things, one beside, six together", wide("(" + most + "|a.0)", six));
         keeps(14, "48 and 6 things, one beside that goes alone", wide("(" + most + "|t.0)", six));
+    }
+
+    /** "60 unlike things": those of one, and those of the other one, that do nothing together; all are hidden then */
+    private static void thingsOfBothSides() {
+        String hidden = "(((((((X0+X1)+(X2+X3))|((X0+X1)+(X2+X4)))-a)-b)-c)-d)";
+        String turned = "(((((((X0+X1)+(X2+X4))|((X0+X1)+(X2+X3)))-a)-b)-c)-d)";
+        String[] lines = new String[5];
+        String[] to = {"X4", "X5", "X6", "X7", "X0", "X1", "X2", "X3"};
+        for (int k = 0; k < 4; k++) {
+            lines[k] = k + "=" + "((" + takes(to[2 * k]) + ")+(" + takes(to[2 * k + 1]) + "))";
+        }
+        lines[4] = "4=(" + takes("0") + ")";
+        keeps(1, "32 things and 28", topped(hidden, lines));
+        keeps(1, "28 things and 32", topped(turned, lines));
+        lines[4] = "4=((" + takes("0") + ")+a.X2)";
+        breaks("32 things and 29", topped(hidden, lines));
+        breaks("29 things and 32", topped(turned, lines));
+    }
+
+    /** 48 unlike things, each of them once in each of eight terms around; none of them is come to. */
+    private static void thingsOfManyTexts() {
+        String[] lines = new String[8];
+        for (int k = 0; k < 8; k++) {
+            String line = "";
+            for (int i = 6 * k; i < 6 * k + 6; i++) {
+                String step = "a." + LETTERS.charAt(i % 9) + "." + (i < 9 ? "0" : "X" + i / 9);
+                line = line.isEmpty() ? step : "(" + step + "+" + line + ")";
+            }
+            lines[k] = k + "=" + line;
+        }
+        keeps(1, "48 things in each of eight terms", topped("(((((((((" + SUM + ":bb)".repeat(8) + "-a)", lines));
+        breaks("48 things in each of eight terms, not hidden", topped("((((((((" + SUM + ":bb)".repeat(8), lines));
+    }
+
+    private static String takes(String to) {
+        return "(a." + to + "+b." + to + ")+(c." + to + "+d." + to + ")";
+    }
+
+    /** "60 unlike things .. that one of them can do, or a TERM in it": as many in each of many */
+    private static void thingsOfManyTerms() {
+        String around = "(((((((((" + SUM + ":aa)".repeat(9);
+        keeps(8, "60 things in each of ten", wide(around, "((t.0+t.X0)+(t.X1+t.X2))"));
+        breaks("61 things in each of ten", wide(around, "((t.0+t.X0)+((t.X1+t.X2)+t.X3))"));
     }
 
     /** "or a TERM in it that does not stand behind a STEP" */

@@ -14,7 +14,7 @@ public final class BoundsOfLooksTest {
         wordsAheadOfTheBound();
         boundOfTheFirstTwoLooksAlone();
         roundZeroAndNone();
-        latestRound();
+        lateRound();
         wordOfNoneAndOfOne();
         refusalOfEmptyWordAndSet();
         refusalOfTheLargestSet();
@@ -275,8 +275,8 @@ public final class BoundsOfLooksTest {
         return two("X0", "X1", "0=" + row("a", 22, "b.X0"), "1=" + row("a", 22, "b.X2"), "2=a.X1");
     }
 
-    /** The latest round, the deepest sentence, the longest game of one way. */
-    private static void latestRound() {
+    /** A late round, with a deep sentence and a long game. */
+    private static void lateRound() {
         String alike = row("a", 22, "b") + row("a", 22, "");
         String word = alike.replace(".", "");
         String steps = word.replace("a", "<a>").replace("b", "<b>");

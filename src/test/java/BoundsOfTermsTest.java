@@ -152,6 +152,13 @@ public final class BoundsOfTermsTest {
         Edge.refused(Due.STATE, "step of the size 24", () -> topped(sized(24)), x -> x.step(0));
         Edge.refused(Due.STATE, "step of pairs of the size 24", () -> topped("(" + sized(11) + "|" + sized(12) + ")"),
                 x -> x.step(1));
+        Edge.House names = () -> {
+            Twotalk x = Due.house("7=" + sized(24));
+            Due.put(x, "(a.X7+X7)");
+            Due.put(x, "X7");
+            return x;
+        };
+        Edge.allowed(6, "a name counts as one, whatever it means", names, Twotalk::beside);
         Edge.allowed(2, "step of a small one above a large one", () -> topped(sized(24), "X4"), x -> x.step(1));
     }
 
@@ -361,6 +368,9 @@ public final class BoundsOfTermsTest {
         guarded(false, 0, "0=X1", "1=X0");
         guarded(true, 0, "0=X1", "1=a.X0");
         guarded(true, 1, "0=X1", "1=a.X0");
+        guarded(false, 0, "0=(X0+X1)", "1=0");
+        guarded(false, 0, "0=(X1+X0)", "1=0");
+        guarded(false, 0, "0=((X1|X2)+X1)", "1=0", "2=X0");
     }
 
     /** "(nor come to one that is not TOLD": as it is told it may be guarded at once */
@@ -373,6 +383,9 @@ public final class BoundsOfTermsTest {
         guarded(true, 0, "0=X1", "1=a.X7");
         guarded(true, 0, "0=X1", "1=X7", "7=0");
         guarded(true, 0, "1=X7", "7=0", "0=X1");
+        guarded(false, 0, "0=(X2+X1)", "1=0");
+        guarded(false, 0, "0=(X1+X2)", "1=0");
+        guarded(true, 0, "0=(X1+X2)", "1=0", "2=0");
     }
 
     /** "or from which one comes back to itself so)" */
@@ -383,6 +396,8 @@ public final class BoundsOfTermsTest {
         guarded(true, 0, "0=X1", "1=a.X2", "2=X2");
         guarded(true, 0, "0=X1", "1=X1", "1=a.X1");
         guarded(false, 0, "0=X1", "1=a.X1", "1=X1");
+        guarded(false, 0, "0=(X1+X2)", "1=X1", "2=0");
+        guarded(false, 0, "0=(X2+X1)", "1=X1", "2=0");
     }
 
     /** From the first name to the last one; the way back is the last thing that is seen. */
