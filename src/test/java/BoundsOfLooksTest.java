@@ -14,6 +14,8 @@ public final class BoundsOfLooksTest {
         wordsAheadOfTheBound();
         boundOfTheFirstTwoLooksAlone();
         roundZeroAndNone();
+        roundsOfFarStates();
+        roundsInEachGraph();
         lateRound();
         wordOfNoneAndOfOne();
         refusalOfEmptyWordAndSet();
@@ -268,6 +270,48 @@ public final class BoundsOfLooksTest {
         }
         Edge.allowed(1, "round by t", two("t.0", "0"), x -> x.round(0, 0, 1, 0, false));
         Edge.allowed(-1, "round by t, unseen", two("t.0", "0"), x -> x.round(0, 0, 1, 0, true));
+    }
+
+    /** "STATES of all GRAPHS": a step to what is alike with one there, and a step to what is alike with one far away */
+    private static void roundsOfFarStates() {
+        for (int i = 0; i < 20; i++) {
+            int n = i < 7 ? 2 : 3;
+            int p = i < 7 ? 15 + i : i - 7;
+            Edge.House house = () -> {
+                Twotalk x = new Twotalk();
+                Due.graph(x, 0, row("d", n == 2 ? p - 15 : p + 9, "b.0"));
+                Due.graph(x, n, row("a", p + 1, "c.0"));
+                Due.graph(x, 5 - n, "a.b.0");
+                return x;
+            };
+            for (int look = 0; look <= 4; look++) {
+                int asked = look;
+                Edge.allowed(false, "look " + look + " of the state " + p + " of " + n, house,
+                        x -> x.isAlike(asked, n, p, 5 - n, 0));
+            }
+            Edge.allowed(2, "round of the state " + p + " of " + n, house, x -> x.round(5 - n, 0, n, p, false));
+            Edge.allowed(2, "round of the state " + p + " of " + n, house, x -> x.round(n, p, 5 - n, 0, true));
+        }
+    }
+
+    /** The same in each of the graphs: one that comes to two, and two that come to one of these each. */
+    private static void roundsInEachGraph() {
+        for (int n = 0; n < 4; n++) {
+            int graph = n;
+            Edge.House house = () -> {
+                Twotalk x = new Twotalk();
+                Due.graph(x, graph, "(t.(a.b.0+a.c.0)+(t.a.b.0+t.a.c.0))");
+                return x;
+            };
+            Edge.allowed("t1 t2 t3", "steps", house, x -> x.steps(graph, 0));
+            for (int look = 2; look <= 4; look++) {
+                int asked = look;
+                Edge.allowed("0 1 2 3 4 5 6", "classes of the graph " + n + " by " + look, house,
+                        x -> x.classes(graph, asked));
+            }
+            Edge.allowed(2, "round in the graph " + n, house, x -> x.round(graph, 1, graph, 2, false));
+            Edge.allowed(2, "round in the graph " + n, house, x -> x.round(graph, 3, graph, 1, true));
+        }
     }
 
     /** Rows that go round, of 23 and of 24 acts, have their first 45 acts alike, and no two such have more. */

@@ -122,6 +122,12 @@ public final class BoundsOfWholeTest {
         Edge.allowed(true, "isSound of a new house", Twotalk::new, Twotalk::isSound);
         Edge.allowed(true, "isSound of a full house", BoundsOfWholeTest::full, Twotalk::isSound);
         Edge.allowed(true, "isSound past the bounds", BoundsOfWholeTest::small, Twotalk::isSound);
+        Edge.allowed("true!<a>T", "isSound, though the first one has no act of its own", () -> rows("0", "a.0"),
+                x -> x.isSound() + x.sentence(0, 0, 1, 0, false));
+        Edge.allowed("true<a>T", "isSound, though the second one has none", () -> rows("a.0", "0"),
+                x -> x.isSound() + x.sentence(0, 0, 1, 0, false));
+        Edge.allowed("true!<a><a>T", "isSound of rows", () -> rows("(a.0+a.0)", "(a.0+a.a.0)", "(a.a.0+a.a.a.0)"),
+                x -> x.isSound() + x.sentence(0, 0, 1, 0, false));
         Edge.refused(Due.STATE, "words past the bound", BoundsOfWholeTest::small, x -> x.isAlike(0, 2, 0, 3, 0));
         Edge.refused(Due.STATE, "refusals past the bound", BoundsOfWholeTest::small, x -> x.isAlike(1, 2, 0, 3, 0));
         Edge.allowed(true, "alike by the look above", BoundsOfWholeTest::small, x -> x.isAlike(2, 2, 0, 3, 0));
@@ -129,6 +135,14 @@ public final class BoundsOfWholeTest {
                 x -> x.sentence(0, 0, 1, 0, false));
         Edge.allowed(true, "isSound stays when it is asked", BoundsOfWholeTest::small,
                 x -> x.isSound() && x.isSound() && x.ofGraph(0, 0) == small().ofGraph(0, 0));
+    }
+
+    private static Twotalk rows(String... terms) {
+        Twotalk x = new Twotalk();
+        for (int n = 0; n < terms.length; n++) {
+            Due.graph(x, n, terms[n]);
+        }
+        return x;
     }
 
     /** "d becomes d * 31 + v, which wraps around as a 64-bit integer": reckoned with numbers that do not wrap around */

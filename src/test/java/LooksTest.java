@@ -271,6 +271,9 @@ public final class LooksTest {
         games("0a2>1 0b3>-", "0a2>1 0c3>-", "(a.A.0+a.b.0)", "(a.A.0+a.c.0)");
         games("0b2>-", "1b2>-", "(a.a.a.0+b.0)", "a.a.0");
         games("0a0>1 0a0>2 0a0>-", "0a1>0 0a2>0 1a0>-", "X0", "a.a.0", "0=a.X0");
+        games("0a3>4 0b4>3 0c2>-", "0a4>3 0b3>4 1c2>-", "(t.D.0+(a.0+a.b.c.0))",
+                "((t.D.0+t.(D.0|0))+(a.0+a.b.0))");
+        games("1a3>2 0b1>4 1c1>-", "0a3>2 0b4>1 0c1>-", "(a.0+a.b.0)", "(a.0+(a.b.0+a.b.c.0))");
         Twotalk x = two("a.t.0", "a.0");
         Due.is("0a1>1 0t2>-", "game of those alike by unseen", () -> x.game(0, 0, 1, 0));
         Due.fails(Due.ELEMENT, x, "game of those alike by steps", () -> x.game(0, 2, 1, 1));
