@@ -341,7 +341,7 @@ public final class BoundsOfLooksTest {
         Edge.allowed(true, "isSound", house, Twotalk::isSound);
     }
 
-    /** "NoSuchElementException if both have the same WORDS"; "(by the WORD without ACTS one comes to ..)" */
+    /** "NoSuchElementException if both have the same WORDS"; "by the WORD without ACTS one comes to" */
     private static void wordOfNoneAndOfOne() {
         Edge.refused(Due.ELEMENT, "word of nil and nil", Twotalk::new, x -> x.word(0, 0, 3, 0));
         Edge.refused(Due.ELEMENT, "word of one with itself", two("a.0", "b.0"), x -> x.word(1, 0, 1, 0));
@@ -397,7 +397,7 @@ public final class BoundsOfLooksTest {
                 "4=(a.(a.X2+a.X2)+a.(a.X0+a.X1))", "5=(a.(a.X1+a.X2)+a.(a.X0+a.X2))");
     }
 
-    /** "a TEXT of 400": "Throws IllegalStateException if its TEXT is longer than 400" */
+    /** "Throws IllegalStateException if its TEXT is longer than 400" */
     private static void sentenceUpTo400() {
         Edge.allowed(400, "400 signs", floors(), x -> x.sentence(0, 0, 1, 0, false).length());
         Edge.allowed(400, "400 signs, unseen", floors(), x -> x.sentence(0, 0, 1, 0, true).length());
