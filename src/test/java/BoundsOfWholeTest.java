@@ -21,19 +21,20 @@ public final class BoundsOfWholeTest {
         Due.end();
     }
 
-    /** Eight terms and six sentences as large as may be, eight names, four graphs of 24 states that are all alike. */
+    /** Eight terms, six sentences, the last ones as large as may be, eight names, four graphs of 24 like states. */
     private static Twotalk full() {
-        Twotalk x = Due.house("0=" + STEPS_24.replace("0", "X1"), "1=a.X1", "2=a.X2", "3=0", "4=0", "5=0", "6=0",
-                "7=" + STEPS_24);
+        Twotalk x = Due.house("0=" + STEPS_24.replace("0", "X1"), "1=a.X1", "2=X0", "3=0", "4=0", "5=0", "6=0", "7=0");
         for (int n = 0; n < 4; n++) {
             Due.graph(x, n, "X0");
         }
-        for (int i = 0; i < 6; i++) {
-            Due.say(x, LONGEST);
+        for (int i = 0; i < 5; i++) {
+            Due.say(x, "T");
         }
-        for (int i = 0; i < 8; i++) {
-            Due.put(x, STEPS_24.replace("0", "X" + i));
+        Due.say(x, LONGEST);
+        for (int i = 0; i < 7; i++) {
+            x.name(i);
         }
+        Due.put(x, STEPS_24.replace("0", "X2"));
         return x;
     }
 
@@ -151,7 +152,7 @@ public final class BoundsOfWholeTest {
             example(2), example(3), example(4)};
         boolean isBelowZero = false;
         for (int i = 0; i < all.length; i++) {
-            BigInteger whole = wholeDigest(all[i].made());
+            BigInteger whole = wholeDigest(all[i]);
             isBelowZero = isBelowZero || whole.longValue() < 0;
             Due.is(true, "the digest goes beyond 64 bits", () -> whole.bitLength() > 64);
             Edge.allowed(whole.longValue(), "the digest of the house " + i, all[i], Twotalk::digest);
@@ -173,13 +174,15 @@ public final class BoundsOfWholeTest {
         return d.multiply(BigInteger.valueOf(31)).add(BigInteger.valueOf(v));
     }
 
-    private static BigInteger wholeDigest(Twotalk x) {
+    /** Asked of a new house for each part, so that none is used for too many calls. */
+    private static BigInteger wholeDigest(Edge.House house) {
+        Twotalk x = house.made();
         BigInteger d = BigInteger.valueOf(6810);
         for (int what = 0; what <= 9; what++) {
             d = with(d, x.house(what));
         }
         for (int n = 0; n < 4; n++) {
-            d = graphDigest(d, x, n);
+            d = graphDigest(d, house.made(), n);
         }
         for (int k = 0; k < 8; k++) {
             d = with(d, x.meant(k).length());
@@ -201,7 +204,8 @@ public final class BoundsOfWholeTest {
         for (int what = 0; what <= 5; what++) {
             d = with(d, x.ofGraph(n, what));
         }
-        for (int p = 0; p < x.ofGraph(n, 0); p++) {
+        int count = x.ofGraph(n, 0);
+        for (int p = 0; p < count; p++) {
             for (int what = 0; what <= 5; what++) {
                 d = with(d, x.ofState(n, p, what));
             }

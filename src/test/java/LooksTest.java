@@ -303,26 +303,26 @@ public final class LooksTest {
     }
 
     private interface Asked {
-        Object of(int n, int p, int m, int q);
+        Object of(Twotalk x, int n, int p, int m, int q);
     }
 
     private static void wrongPlaces() {
-        Twotalk x = two("a.b.0", "a.c.0");
         Asked[] all = {
-            (n, p, m, q) -> x.isAlike(0, n, p, m, q), (n, p, m, q) -> x.isAlike(4, n, p, m, q),
-            (n, p, m, q) -> x.round(n, p, m, q, true), x::word, x::refusal, x::game,
-            (n, p, m, q) -> x.sentence(n, p, m, q, false), (n, p, m, q) -> x.sentence(n, p, m, q, true)};
+            (x, n, p, m, q) -> x.isAlike(0, n, p, m, q), (x, n, p, m, q) -> x.isAlike(4, n, p, m, q),
+            (x, n, p, m, q) -> x.round(n, p, m, q, true), Twotalk::word, Twotalk::refusal, Twotalk::game,
+            (x, n, p, m, q) -> x.sentence(n, p, m, q, false), (x, n, p, m, q) -> x.sentence(n, p, m, q, true)};
         for (int i = 0; i < all.length; i++) {
             Asked asked = all[i];
+            Twotalk x = two("a.b.0", "a.c.0");
             for (int n : NO_GRAPH) {
-                Due.fails(Due.INDEX, x, i + " with the graph " + n, () -> asked.of(n, 0, 0, 0));
-                Due.fails(Due.INDEX, x, i + " with the other graph " + n, () -> asked.of(0, 0, n, 0));
+                Due.fails(Due.INDEX, x, i + " with the graph " + n, () -> asked.of(x, n, 0, 0, 0));
+                Due.fails(Due.INDEX, x, i + " with the other graph " + n, () -> asked.of(x, 0, 0, n, 0));
             }
             for (int p : new int[] {-1, 3, 24, Integer.MIN_VALUE, Integer.MAX_VALUE}) {
-                Due.fails(Due.INDEX, x, i + " with the state " + p, () -> asked.of(0, p, 1, 0));
-                Due.fails(Due.INDEX, x, i + " with the other state " + p, () -> asked.of(0, 0, 1, p));
+                Due.fails(Due.INDEX, x, i + " with the state " + p, () -> asked.of(x, 0, p, 1, 0));
+                Due.fails(Due.INDEX, x, i + " with the other state " + p, () -> asked.of(x, 0, 0, 1, p));
             }
-            Due.fails(Due.INDEX, x, i + " with a state of a small graph", () -> asked.of(3, 1, 0, 0));
+            Due.fails(Due.INDEX, x, i + " with a state of a small graph", () -> asked.of(x, 3, 1, 0, 0));
         }
     }
 }

@@ -26,7 +26,8 @@ final class View {
 
     private static void graph(Twotalk x, int n, StringBuilder out) {
         out.append("graph ").append(n).append('\n');
-        for (int p = 0; p < x.ofGraph(n, 0); p++) {
+        int count = x.ofGraph(n, 0);
+        for (int p = 0; p < count; p++) {
             out.append(p).append(' ').append(x.term(n, p)).append(" does ").append(x.steps(n, p)).append('\n');
         }
         out.append(x.which(n, false)).append(',').append(x.which(n, true)).append('\n');

@@ -126,15 +126,17 @@ public final class WholeTest {
         void on(Twotalk x);
     }
 
-    /** Each kind of change shows in the checksum. */
+    /** Each kind of change shows in the checksum; each is asked of a new house, which has all those ahead of it too. */
     private static void digestOfEach() {
-        Twotalk x = Due.house("0=a.X0");
         Change[] all = {y -> y.nil(), y -> y.tell(5), y -> y.knock(), y -> y.say(0, 0), y -> y.unsay(),
             y -> y.example(0), y -> y.name(0), y -> y.graph(3), y -> Due.graph(y, 2, "A.d.0"), y -> y.smallest(0, 1)};
         for (int i = 0; i < all.length; i++) {
-            Change change = all[i];
+            Twotalk x = Due.house("0=a.X0");
+            for (int j = 0; j < i; j++) {
+                all[j].on(x);
+            }
             long before = x.digest();
-            change.on(x);
+            all[i].on(x);
             Due.is(true, "the digest changes by " + i, () -> x.digest() != before);
             Due.is(byHand(x), "the digest behind " + i, x::digest);
         }
