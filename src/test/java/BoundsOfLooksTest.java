@@ -405,9 +405,31 @@ public final class BoundsOfLooksTest {
                 x -> x.sentence(0, 0, 1, 0, false).substring(379));
         Edge.refused(Due.STATE, "401 signs", floors(), x -> x.sentence(1, 0, 0, 0, false));
         Edge.refused(Due.STATE, "401 signs, unseen", floors(), x -> x.sentence(1, 0, 0, 0, true));
+        sentenceUpTo400ByNot(false);
+        sentenceUpTo400ByNot(true);
         Edge.refused(Due.ELEMENT, "one with itself", floors(), x -> x.sentence(1, 0, 1, 0, false));
         Edge.allowed(true, "the game has no such bound", floors(), x -> x.game(1, 0, 0, 0).endsWith("-"));
         Edge.allowed(true, "nor has what is sound", floors(), Twotalk::isSound);
+    }
+
+    /** The graph 0 can do all that the graph 1 can, and one thing more, so that what parts that one begins with "!". */
+    private static void sentenceUpTo400ByNot(boolean isUnseen) {
+        Edge.House of399 = two("(a.X6+a.X7)", "a.X7", "0=(a.(a.b.0+a.c.0)+a.(a.c.0+a.0))",
+                "1=(a.(a.b.0+a.d.0)+a.(a.0+a.0))", "2=(a.(a.b.0+a.0)+a.(a.b.0+a.c.0))",
+                "3=(a.(a.X0+a.X2)+a.(a.X1+a.X2))", "4=(a.(a.X0+a.X1)+a.(a.X0+a.X2))",
+                "5=(a.(a.X1+a.X2)+a.(a.X0+a.X1))", "6=(a.(a.X4+a.X5)+a.(a.X4+a.X5))",
+                "7=(a.(a.X3+a.X3)+a.(a.X4+a.X3))");
+        Edge.House of400 = two("(a.X6+(a.X7+a.0))", "(a.X7+a.0)", "0=(a.(a.0+a.c.0)+a.(a.0+a.d.0))",
+                "1=(a.(a.d.0+a.b.0)+a.(a.0+a.c.0))", "2=(a.(a.c.0+a.d.0)+a.(a.0+a.d.0))",
+                "3=(a.(a.X2+a.X0)+a.(a.X1+a.X0))", "4=(a.(a.X1+a.X0)+a.(a.X1+a.X2))",
+                "5=(a.(a.X0+a.X2)+a.(a.X1+a.X2))", "6=(a.(a.X3+a.X4)+a.(a.X3+a.X4))",
+                "7=(a.(a.X5+a.X5)+a.(a.X4+a.X5))");
+        Edge.allowed(399, "399 signs", of399, x -> x.sentence(0, 0, 1, 0, isUnseen).length());
+        Edge.allowed(true, "400 signs, the first of them a not", of399,
+                x -> x.sentence(1, 0, 0, 0, isUnseen).equals("!" + x.sentence(0, 0, 1, 0, isUnseen)));
+        Edge.allowed(400, "400 signs, without a not", of400, x -> x.sentence(0, 0, 1, 0, isUnseen).length());
+        Edge.refused(Due.STATE, "401 signs, the first of them a not", of400, x -> x.sentence(1, 0, 0, 0, isUnseen));
+        Edge.allowed(true, "isSound, though a not is too much", of400, Twotalk::isSound);
     }
 
     /** "\"T\" without a q'"; of one alone without brackets; "each one but once" */
