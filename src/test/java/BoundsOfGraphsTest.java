@@ -27,10 +27,12 @@ public final class BoundsOfGraphsTest {
         thingsOfBothSides();
         thingsOfManyTerms();
         thingsOfManyTexts();
+        thingsBesideMany();
         thingsOfATermInIt();
         thingsOfWhatANameMeans();
         thingsBehindAStep();
         graphOnAFullStack();
+        graphsWithoutAnEnd();
         exampleNumber();
         exampleInAFullHouse();
         smallestNumbers();
@@ -304,6 +306,13 @@ public final class BoundsOfGraphsTest {
 
     /** 48 unlike things, each of them once in each of eight terms around; none of them is come to. */
     private static void thingsOfManyTexts() {
+        String[] lines = sixEach();
+        keeps(1, "48 things in each of eight terms", topped("(((((((((" + SUM + ":bb)".repeat(8) + "-a)", lines));
+        breaks("48 things in each of eight terms, not hidden", topped("((((((((" + SUM + ":bb)".repeat(8), lines));
+    }
+
+    /** Eight names that can do six things each by the same act, all of them unlike. */
+    private static String[] sixEach() {
         String[] lines = new String[8];
         for (int k = 0; k < 8; k++) {
             String line = "";
@@ -313,8 +322,43 @@ public final class BoundsOfGraphsTest {
             }
             lines[k] = k + "=" + line;
         }
-        keeps(1, "48 things in each of eight terms", topped("(((((((((" + SUM + ":bb)".repeat(8) + "-a)", lines));
-        breaks("48 things in each of eight terms, not hidden", topped("((((((((" + SUM + ":bb)".repeat(8), lines));
+        return lines;
+    }
+
+    /** What many terms in it could do, and all is hidden, changes nothing of what stands beside it. */
+    private static void thingsBesideMany() {
+        String[] lines = sixEach();
+        lines[7] = "7=" + "(".repeat(10) + "(((X0+X1)+(X2+X3))+((X4+X5)+X6))" + ":bb)".repeat(9) + "-a)";
+        String[] all = {"((a.b.0|c.(d.0+a.0))+(A.(b.0-b)+(D.0:da)))", "(((a.b.0+t.c.0)|(A.0+C.d.0))-b)",
+            "((b.a.0|B.c.0):bd)", "(a.(b.0|c.0)+(a.(c.0|b.0)+t.(0+d.0)))"};
+        for (String each : all) {
+            Edge.House without = topped("(0|" + each + ")");
+            Edge.House turned = topped("(" + each + "|0)");
+            Edge.allowed(whole(without, "(X7|", "(0|"), "beside much: " + each, topped("(X7|" + each + ")", lines),
+                    x -> x.graph(3) > 0 ? whole(x) : "");
+            Edge.allowed(whole(turned, "|X7)", "|0)"), "beside much: " + each, topped("(" + each + "|X7)", lines),
+                    x -> x.graph(3) > 0 ? whole(x) : "");
+        }
+    }
+
+    /** All terms and steps of the graph that is made of the top, with another sign in the place of one of each. */
+    private static String whole(Edge.House house, String sign, String before) {
+        Twotalk x = house.made();
+        x.graph(3);
+        StringBuilder all = new StringBuilder();
+        for (String line : whole(x).split("\n")) {
+            int at = sign.startsWith("(") ? line.indexOf(before) : line.lastIndexOf(before);
+            all.append(line, 0, at).append(sign).append(line.substring(at + before.length())).append('\n');
+        }
+        return all.toString();
+    }
+
+    private static String whole(Twotalk x) {
+        StringBuilder all = new StringBuilder();
+        for (int p = 0; p < x.ofGraph(3, 0); p++) {
+            all.append(x.term(3, p)).append(" does ").append(x.steps(3, p)).append('\n');
+        }
+        return all.toString();
     }
 
     private static String takes(String to) {
@@ -372,6 +416,19 @@ public final class BoundsOfGraphsTest {
         };
         Edge.allowed("1 7", "graph on eight", full, x -> x.graph(0) + " " + x.house(0));
         Edge.refused(Due.STATE, "a ninth", full, Twotalk::nil);
+    }
+
+    /** "An object is used for at most 512 calls": two for each of many graphs, each of near to as much as may be */
+    private static void graphsWithoutAnEnd() {
+        String most = "(((X0+X1)+(X2+X3))+((X4+X5)+X6))";
+        Edge.House house = wide("(((((((((" + most + ":aa)".repeat(9), "((((((((((" + most + ":bb)".repeat(10));
+        Edge.allowed("8 8 56", "the last of 200 graphs", house, x -> {
+            for (int i = 0; i < 199; i++) {
+                x.name(7);
+                x.graph(i % 4);
+            }
+            return x.graph(2) + " " + x.ofGraph(2, 0) + " " + x.ofState(2, 0, 0);
+        });
     }
 
     /** A house in which there is no room for more on the stack and on the desk, nor a name that is not told. */
@@ -441,6 +498,12 @@ public final class BoundsOfGraphsTest {
         Edge.allowed("1 0 ", "smallest of nil", graphed("a.0"),
                 x -> x.smallest(0, 3) + " " + x.term(3, 0) + " " + x.steps(3, 0));
         Edge.allowed(24, "smallest of 24 unlike ones", graphed(STEPS_24), x -> x.smallest(1, 3));
+        Edge.House last = graphed(STEPS_24.replace("0", "X1"), "1=D.X1");
+        Edge.allowed("24 a23 D23 X1", "smallest of 24 unlike ones, the last of which goes on", last,
+                x -> x.smallest(1, 3) + " " + x.steps(3, 22) + " " + x.steps(3, 23) + " " + x.term(3, 23));
+        Edge.House back = graphed("X1", "1=" + STEPS_24.replace("0", "X2"), "2=(b.X1+c.X2)");
+        Edge.allowed("24 a1 b0 c23 24", "smallest of 24 unlike ones, the last of which goes back", back,
+                x -> x.smallest(1, 1) + " " + x.steps(1, 0) + " " + x.steps(1, 23) + " " + x.ofState(1, 23, 4));
         Edge.allowed("1 a0 X0", "smallest of 24 like ones",
                 graphed("X0", "0=" + STEPS_24.replace("0", "X1"), "1=a.X1"),
                 x -> x.smallest(1, 1) + " " + x.steps(1, 0) + " " + x.term(1, 0));

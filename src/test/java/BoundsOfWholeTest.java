@@ -13,6 +13,7 @@ public final class BoundsOfWholeTest {
         houseWhat();
         houseOfNoneAndOfAll();
         soundAtTheBounds();
+        signsOfClasses();
         digestWrapsAround();
         digestOfBounds();
         refusedAllInAFullHouse();
@@ -148,7 +149,9 @@ public final class BoundsOfWholeTest {
 
     /** "d becomes d * 31 + v, which wraps around as a 64-bit integer": reckoned with numbers that do not wrap around */
     private static void digestWrapsAround() {
-        Edge.House[] all = {Twotalk::new, BoundsOfWholeTest::full, BoundsOfWholeTest::small, example(0), example(1),
+        Edge.House trials = () -> rows("0", "a.0", "A.d.0", "(A.t.d.0+t.0)");
+        Edge.House[] all = {Twotalk::new, () -> Due.house("3=a.(X3|0)", "7=X7"), trials,
+            BoundsOfWholeTest::unlikeByEachLook, BoundsOfWholeTest::full, BoundsOfWholeTest::small, example(0), example(1),
             example(2), example(3), example(4)};
         boolean isBelowZero = false;
         for (int i = 0; i < all.length; i++) {
@@ -160,6 +163,27 @@ public final class BoundsOfWholeTest {
         }
         boolean isSeen = isBelowZero;
         Due.is(true, "one of them has come to be below zero", () -> isSeen);
+    }
+
+    /** The state 14 of the graph 1 is alike with its state 1 by the look 2 alone; t parts by the look 4 alone. */
+    private static Twotalk unlikeByEachLook() {
+        Twotalk x = Due.house("0=(a.0+(t.b.0+b.0))");
+        Due.graph(x, 1, "(a.(a.0+t.b.0)+" + "b.".repeat(11) + "X0)");
+        Due.graph(x, 2, "t.".repeat(14) + "a.0");
+        return x;
+    }
+
+    /** "how many signs classes() of 2 to 4 have": another number by each */
+    private static void signsOfClasses() {
+        int[][] due = {{33, 32}, {34, 32}, {34, 37}};
+        for (int look = 2; look <= 4; look++) {
+            int asked = look;
+            for (int n = 1; n <= 2; n++) {
+                int graph = n;
+                Edge.allowed(due[look - 2][n - 1], "signs of classes(" + n + ", " + look + ")",
+                        BoundsOfWholeTest::unlikeByEachLook, x -> x.classes(graph, asked).length());
+            }
+        }
     }
 
     private static Edge.House example(int k) {

@@ -6,7 +6,12 @@ public final class GraphsTest {
     public static void main(String[] args) {
         graph();
         graphOrder();
+        graphOrderOfTwo();
         graphOfEachKind();
+        graphOfPartners();
+        graphAsOneOfNone();
+        unseenByFallingNumbers();
+        unseenRounds();
         graphWithoutNames();
         graphOfManyStates();
         graphOfLargeStates();
@@ -92,6 +97,24 @@ public final class GraphsTest {
         Due.is("a1/b2/", "a pair is told once", () -> all(x, 0));
     }
 
+    /** "by TEXTS (sign by sign, as in ASCII)": each two of these, whichever is told first */
+    private static void graphOrderOfTwo() {
+        String[] all = {"0", "X0", "X1", "X7", "t.0", "a.0", "A.0", "D.0", "a.X0", "a.a.0", "a.(0+0)", "(0+0)", "(0|0)",
+            "(0-a)", "(0-b)", "(0-d)", "(0:aa)", "(0:ab)", "(0:ad)", "(0:ba)", "(0:da)", "(0:dd)", "(0+X0)", "(X0+0)",
+            "(0+(0|0))", "((0|0)+0)", "((0+0)|0)", "((0-a)-b)", "((0-b)-a)", "((0:ab)-a)", "((0-a):ab)", "((0|X1)+X0)",
+            "((0|X0)|X7)", "(t.0+a.0)", "(a.0+t.0)", "(a.(0-c)|0)", "(a.(0-b)|0)", "(X7-a)", "(X1-d)"};
+        for (String one : all) {
+            for (String other : all) {
+                if (!one.equals(other)) {
+                    Twotalk x = Due.house("0=0", "1=0", "7=0");
+                    Due.graph(x, 0, "(a." + one + "+a." + other + ")");
+                    String due = one.compareTo(other) < 0 ? one + " " + other : other + " " + one;
+                    Due.is(due, "the order of two", () -> x.term(0, 1) + " " + x.term(0, 2));
+                }
+            }
+        }
+    }
+
     private static void graphOfEachKind() {
         shape("0", "");
         shape("t.0", "t1/");
@@ -116,6 +139,104 @@ public final class GraphsTest {
         shape("X0", "a1/b0", "0=X1", "1=a.b.X0");
         shape("(X0|X0)", "t1 t2 a3 a4 A5 A6///a7 A1/a7 A2/a1 A8/a2 A8//",
                 "0=(a.0+A.X1)", "1=0");
+    }
+
+    /** Partners meet wherever they stand among what both can do. */
+    private static void graphOfPartners() {
+        String left = "((a.X1+b.X2)+c.X3)";
+        String[] turns = {"(A.X1+(B.X2+C.X3))", "((B.X2+C.X3)+A.X1)", "(C.X3+(B.X2+A.X1))", "(B.X2+(A.X1+C.X3))"};
+        for (String right : turns) {
+            for (boolean isTurned : new boolean[] {false, true}) {
+                Twotalk x = Due.house("1=0", "2=0", "3=0");
+                String term = isTurned ? "(" + right + "|" + left + ")" : "(" + left + "|" + right + ")";
+                Due.graph(x, 2, term);
+                Due.is("t1 t2 t3 a4 b5 c6 A7 B8 C9", "steps of " + term, () -> x.steps(2, 0));
+                Due.is("(X1|X1) (X2|X2) (X3|X3)", "where they meet in " + term,
+                        () -> x.term(2, 1) + " " + x.term(2, 2) + " " + x.term(2, 3));
+            }
+        }
+        shape("((d.0+D.0)|(d.0+D.0))", "t1 d2 d3 D2 D3//d1 D1/d1 D1");
+        String[] rights = {"((A.0+B.0):bc)", "((B.0+A.0):bc)", "((A.0+(C.0+B.0))-b)", "((B.0+(C.0+A.0))-b)"};
+        for (String right : rights) {
+            shape("((b.0+c.0)|" + right + ")", "t1 b2 c2 A3 C3//A1 C1/b1 c1");
+            shape("(" + right + "|(b.0+c.0))", "t1 b2 c2 A3 C3//A1 C1/b1 c1");
+        }
+        shape("((a.0+(b.0+t.c.0))|t.B.0)", "t1 t2 a3 b3/t4 t5 a6 b6 B7/t5 c3/t6//c6 B8/B4/t8 a4 b4/c4");
+    }
+
+    /** A graph has nothing of those that it or another one had ahead of it. */
+    private static void graphAsOneOfNone() {
+        Twotalk x = Due.house("0=t.X0", "1=(t.X1+(a.X1+D.X1))");
+        String[] ahead = {"t.t.t.t.t.X0", "t.X1", "((a.b.0+t.c.0)|(a.0+B.0))", "a.b.c.d.A.B.C.D.t.0"};
+        for (int turn = 0; turn < 3 * ahead.length; turn++) {
+            Due.graph(x, turn % 2, ahead[turn % ahead.length]);
+            Due.graph(x, 1 - turn % 2, ahead[(turn + 1) % ahead.length]);
+            for (int n = 0; n < 4; n++) {
+                int graph = n;
+                Due.is(2, "states of c.0", () -> Due.graph(x, graph, "c.0"));
+                Due.is("c1//0", "its steps", () -> x.steps(graph, 0) + "/" + x.steps(graph, 1) + "/" + x.term(graph, 1));
+                Due.is("1", "which are still", () -> x.which(graph, false));
+                Due.is("", "which diverge", () -> x.which(graph, true));
+                Due.is("1 8 0 0 2 1", "facts of its first state", () -> facts(x, graph, 0));
+                Due.is("0 0 0 1 1 0", "facts of its last state", () -> facts(x, graph, 1));
+            }
+            x.smallest(0, 3);
+            Due.is("1 8 0 0 2 1", "facts of the smallest one", () -> facts(x, 3, 0));
+        }
+    }
+
+    /** Rows by t along which numbers fall, as the first state comes to each of them by c: CAN and what diverges. */
+    private static void unseenByFallingNumbers() {
+        String[] rows = new String[12];
+        for (int k = 1; k <= 11; k++) {
+            rows[k] = "t.".repeat(k) + "X5";
+        }
+        Twotalk x = Due.house("0=((X1+X2)+((X3+X4)+" + rows[11] + "))",
+                "1=((c." + rows[1] + "+c." + rows[2] + ")+(c." + rows[3] + "+c." + rows[4] + "))",
+                "2=(c." + rows[5] + "+c." + rows[6] + ")", "3=(c." + rows[7] + "+c." + rows[8] + ")",
+                "4=(c." + rows[9] + "+c." + rows[10] + ")", "5=d.0");
+        Due.graph(x, 1, "X0");
+        Due.is("t1 c1 c2 c3 c4 c5 c6 c7 c8 c9 c10", "steps", () -> x.steps(1, 0));
+        Due.is("t10 t11 t2", "their way", () -> x.steps(1, 1) + " " + x.steps(1, 2) + " " + x.steps(1, 3));
+        Due.is("", "none diverges", () -> x.which(1, true));
+        for (int p = 1; p <= 11; p++) {
+            int state = p;
+            Due.is(16, "CAN of " + p, () -> x.ofState(1, state, 1));
+            int longest = p == 1 ? 11 : p == 11 ? 1 : p;
+            Due.is(longest, "the longest row from " + p, () -> x.ofState(1, state, 5));
+        }
+        Due.told(x, "5=t.X0");
+        Due.graph(x, 1, "X0");
+        Due.is("0 1 2 3 4 5 6 7 8 9 10 11", "all diverge", () -> x.which(1, true));
+        Due.is(8, "CAN of the last one", () -> x.ofState(1, 11, 1));
+    }
+
+    /** "if it can go on by t for ever": round by one t, by two and by up to 24; behind some t, and behind a seen act */
+    private static void unseenRounds() {
+        for (int length = 1; length <= 24; length++) {
+            int states = length;
+            Twotalk x = Due.house("0=" + "t.".repeat(Math.min(length, 23)) + (length == 24 ? "X1" : "X0"), "1=t.X0");
+            Due.is(states, "states that go round", () -> Due.graph(x, 1, "X0"));
+            Due.is(states, "all of them diverge", () -> x.ofGraph(1, 3));
+            Due.is(1, "the last one diverges", () -> x.ofState(1, states - 1, 2));
+        }
+        for (int length = 2; length <= 12; length++) {
+            int states = Math.max(3, length);
+            Twotalk x = Due.house("0=" + "t.".repeat(length) + "X0", "1=" + "t.".repeat(length - 1) + "a.X1");
+            Due.graph(x, 1, "b.t.t.X0");
+            Due.is(states, "behind a seen act", () -> x.ofGraph(1, 3));
+            Due.is(0, "not the first one", () -> x.ofState(1, 0, 2));
+            Due.graph(x, 2, "X1");
+            Due.is(0, "not with a seen act in between", () -> x.ofGraph(2, 3));
+        }
+    }
+
+    private static String facts(Twotalk x, int n, int p) {
+        StringBuilder all = new StringBuilder();
+        for (int what = 0; what < 6; what++) {
+            all.append(what > 0 ? " " : "").append(x.ofState(n, p, what));
+        }
+        return all.toString();
     }
 
     private static void graphWithoutNames() {
@@ -290,6 +411,13 @@ public final class GraphsTest {
         Due.is("t1 a2 b3 c3///c1", "before", () -> all(x, 3));
         x.smallest(3, 1);
         Due.is("t1 a1 b2 c2//c1", "numbered as they first come", () -> all(x, 1));
+        for (char act : "tabcdABCD".toCharArray()) {
+            Due.graph(x, 3, "(" + act + ".b.0+" + act + ".(b.0|0))");
+            Due.is(act + "1 " + act + "2/b3/b4//", "before", () -> all(x, 3));
+            Due.is(3, "smallest, by " + act, () -> x.smallest(3, 1));
+            Due.is(act + "1/b2/", "its steps", () -> all(x, 1));
+            Due.is("(b.0|0)/(0|0)", "its terms", () -> rest(x, 1));
+        }
         Due.told(x, "0=a.X1", "1=a.X0");
         Due.graph(x, 0, "(X0|X1)");
         Due.is(1, "one that goes round", () -> x.smallest(0, 3));

@@ -5,6 +5,10 @@ public final class LooksTest {
     public static void main(String[] args) {
         isAlike();
         isAlikeInOneGraph();
+        isAlikeByEachAct();
+        isAlikeByBranches();
+        isAlikeWherever();
+        eachTwoOfRows();
         boundOfWords();
         round();
         word();
@@ -12,7 +16,9 @@ public final class LooksTest {
         sentence();
         sentenceUnseen();
         sentenceLength();
+        sentenceOfManyAnswers();
         game();
+        gameOfLaterRounds();
         classes();
         wrongPlaces();
         Due.end();
@@ -75,6 +81,110 @@ public final class LooksTest {
         Due.is(true, "a still one and the one of another graph", () -> x.isAlike(4, 2, 4, 3, 0));
     }
 
+    private static void isAlikeByEachAct() {
+        for (char act : "tabcdABCD".toCharArray()) {
+            looks(act == 't' ? "11110" : "00000", act + ".0", "0");
+            looks(act == 't' ? "11110" : "00000", "a." + act + ".0", "a.0");
+            looks("11110", "t." + act + ".0", act == 't' ? "0" : act + ".0");
+            looks(act == 't' ? "11110" : "10000", "(" + act + ".0+t.0)", act == 't' ? "0" : act + ".0");
+            looks("11111", "(" + act + ".0+" + act + ".(0|0))", act + ".0");
+        }
+    }
+
+    /** "from a STATE to which one comes by t .. through STATES (it, too) that are all alike with the first one" */
+    private static void isAlikeByBranches() {
+        looks("11100", "(a.(b.0+t.c.0)+a.c.0)", "a.(b.0+t.c.0)");
+        looks("11110", "t.(a.0+t.b.0)", "(a.0+t.b.0)");
+        looks("11110", "(t.(a.0+t.b.0)+(a.0+t.b.0))", "(a.0+t.b.0)");
+        looks("11100", "(t.(a.0+t.b.0)+c.0)", "(t.(a.0+t.b.0)+(t.b.0+c.0))");
+        looks("11110", "t.(a.0+t.b.0)", "(t.(a.0+t.b.0)+t.b.0)");
+        looks("10000", "(a.0+t.(b.0+t.a.0))", "(a.0+t.b.0)");
+        Twotalk x = Due.house("0=(a.X1+d.0)", "1=(t.X0+b.0)", "2=(d.0+(a.X1+b.0))");
+        Due.graph(x, 0, "X0");
+        Due.graph(x, 1, "X2");
+        Due.graph(x, 2, "X1");
+        Due.is("a1 d2, t0 b2", "a t to the state 0", () -> x.steps(0, 0) + ", " + x.steps(0, 1));
+        for (int look = 0; look <= 4; look++) {
+            int asked = look;
+            Due.is(look == 0, "with and without that t, by " + look, () -> x.isAlike(asked, 0, 1, 1, 0));
+            Due.is(look == 0, "without and with that t, by " + look, () -> x.isAlike(asked, 1, 0, 2, 0));
+            Due.is(true, "with that t from the state 1 or the state 0, by " + look, () -> x.isAlike(asked, 0, 1, 2, 0));
+        }
+        Due.is("0 1 2", "one by t is not the other one", () -> x.classes(0, 3));
+        Due.is("0 1 2", "one by t is not the other one", () -> x.classes(2, 3));
+    }
+
+    /** Two that differ by one step to one state alone, in all places that this one may have. */
+    private static void isAlikeWherever() {
+        for (int place = 0; place < 4 * 19; place++) {
+            int n = place / 19;
+            int ahead = place % 19;
+            Twotalk x = Due.house("7=(d.(a.b.0+a.c.0)+d.a.b.0)");
+            Due.is(ahead + 6, "states", () -> Due.graph(x, n, "d.".repeat(ahead) + "X7"));
+            StringBuilder each = new StringBuilder("0");
+            for (int p = 1; p < ahead + 6; p++) {
+                each.append(' ').append(p);
+            }
+            for (int look = 2; look <= 4; look++) {
+                int asked = look;
+                Due.is(each.toString(), "classes of " + n + " by " + look, () -> x.classes(n, asked));
+            }
+            Due.is(2, "round of two of " + n, () -> x.round(n, ahead + 1, n, ahead + 2, false));
+            Due.is(2, "round of two of " + n + ", unseen", () -> x.round(n, ahead + 2, n, ahead + 1, true));
+            Due.is("<a><c>T", "what parts them", () -> x.sentence(n, ahead + 1, n, ahead + 2, false));
+        }
+    }
+
+    /** Each state of a row of 24 with each, of one graph and of two. */
+    private static void eachTwoOfRows() {
+        for (int p = 0; p < 24; p++) {
+            Twotalk x = new Twotalk();
+            int n = p % 4;
+            int m = p / 4 % 4;
+            Due.graph(x, n, "a.".repeat(23) + "0");
+            Due.graph(x, m, "a.".repeat(23) + "0");
+            for (int q = 0; q < 24; q++) {
+                if (p == q) {
+                    alikeTwo(x, n, p, m, q);
+                } else {
+                    unlikeTwo(x, n, p, m, q);
+                }
+            }
+        }
+    }
+
+    private static void alikeTwo(Twotalk x, int n, int p, int m, int q) {
+        for (int look = 0; look <= 4; look++) {
+            int asked = look;
+            Due.is(true, "look " + look + " of " + p + " and " + q, () -> x.isAlike(asked, n, p, m, q));
+        }
+        Due.is(-1, "round of " + p + " and " + q, () -> x.round(n, p, m, q, false));
+        Due.is(-1, "round of " + p + " and " + q + ", unseen", () -> x.round(n, p, m, q, true));
+    }
+
+    private static void unlikeTwo(Twotalk x, int n, int p, int m, int q) {
+        String both = p + " and " + q;
+        for (int look = 0; look <= 4; look++) {
+            int asked = look;
+            Due.is(false, "look " + look + " of " + both, () -> x.isAlike(asked, n, p, m, q));
+        }
+        int common = 23 - Math.max(p, q);
+        Due.is(common + 1, "round of " + both, () -> x.round(n, p, m, q, false));
+        Due.is(common + 1, "round of " + both + ", unseen", () -> x.round(n, p, m, q, true));
+        Due.is("a".repeat(common + 1), "word of " + both, () -> x.word(n, p, m, q));
+        Due.is("a".repeat(common) + ":2", "refusal of " + both, () -> x.refusal(n, p, m, q));
+        String steps = "<a>".repeat(common) + (p < q ? "<a>T" : "!<a>T");
+        Due.is(steps, "sentence of " + both, () -> x.sentence(n, p, m, q, false));
+        Due.is(steps.replace('<', '{').replace('>', '}'), "sentence of " + both + ", unseen",
+                () -> x.sentence(n, p, m, q, true));
+        StringBuilder game = new StringBuilder();
+        for (int turn = 1; turn <= common; turn++) {
+            game.append("0a").append(p + turn).append('>').append(q + turn).append(' ');
+        }
+        game.append(p < q ? "0a" : "1a").append(Math.min(p, q) + common + 1).append(">-");
+        Due.is(game.toString(), "game of " + both, () -> x.game(n, p, m, q));
+    }
+
     /** To tell which act was the n-th one ahead of the last one takes 2 to the n sets of states. */
     private static Twotalk longMemory(String... lines) {
         Twotalk x = Due.house("0=(a.X0+(b.X0+a.X1))", "1=(a.X2+b.X2)", "2=(a.X3+b.X3)", "3=(a.X4+b.X4)",
@@ -133,6 +243,9 @@ public final class LooksTest {
         rounds(1, 2, "(a.0+t.0)", "a.0");
         rounds(5, 5, "a.a.a.a.a.0", "a.a.a.a.0");
         rounds(2, -1, "(X0|a.0)", "X1", "0=t.X0", "1=(t.X1+a.0)");
+        rounds(1, -1, "(a.0+(t.b.0+b.0))", "(a.0+t.b.0)");
+        rounds(2, -1, "(a.(b.0+t.c.0)+a.c.0)", "a.(b.0+t.c.0)");
+        rounds(2, 3, "((a.(b.0+t.c.0)+a.c.0)+a.a.a.0)", "(a.(b.0+t.c.0)+a.a.0)");
         rounds(24, 24, "X0", "a.a.a.a.a.a.a.a.a.a.a.a.a.a.a.a.a.a.a.a.a.a.a.0", "0=a.X0");
     }
 
@@ -217,6 +330,15 @@ public final class LooksTest {
         Due.is("{a}!{c}T", "behind t, back", () -> w.sentence(1, 0, 0, 0, true));
         Due.is("{a}({c}T&{b}T)", "unseen", () -> y.sentence(0, 0, 1, 0, true));
         Due.is("{a}!{c}T", "unseen, back", () -> y.sentence(1, 0, 0, 0, true));
+        Twotalk u = two("((a.(b.0+t.c.0)+a.c.0)+a.a.a.0)", "(a.(b.0+t.c.0)+a.a.0)");
+        Due.is("{a}({a}T&{a}{a}T)", "of those that branches part earlier", () -> u.sentence(0, 0, 1, 0, true));
+        Due.is("{a}({a}T&{a}!{a}T)", "of those that branches part earlier", () -> u.sentence(1, 0, 0, 0, true));
+        String[][] alike = {{"(a.0+(t.b.0+b.0))", "(a.0+t.b.0)"}, {"(a.(b.0+t.c.0)+a.c.0)", "a.(b.0+t.c.0)"}};
+        for (String[] both : alike) {
+            Twotalk k = two(both[0], both[1]);
+            Due.fails(Due.ELEMENT, k, "alike by unseen, not by branches", () -> k.sentence(0, 0, 1, 0, true));
+            Due.fails(Due.ELEMENT, k, "alike by unseen, not by branches", () -> k.sentence(1, 0, 0, 0, true));
+        }
         Twotalk z = two("t.a.0", "a.0");
         Due.fails(Due.ELEMENT, z, "alike by unseen", () -> z.sentence(0, 0, 1, 0, true));
         Due.is("<t>T", "not by steps", () -> z.sentence(0, 0, 1, 0, false));
@@ -253,6 +375,35 @@ public final class LooksTest {
         Due.fails(Due.STATE, x, "401 signs", () -> x.sentence(1, 0, 0, 0, false));
     }
 
+    /** "the SENTENCES that part p' from q', each one but once", for the q' by rising numbers */
+    private static void sentenceOfManyAnswers() {
+        Twotalk x = two("a.X6", "((X0+X1)+(X2+X3))", "0=(a.(a.0+(b.0+c.0))+a.(t.0+(b.0+c.0)))",
+                "1=(a.((t.0+a.0)+c.0)+a.((t.0+a.0)+b.0))",
+                "2=((a.(X6+d.0)+a.(X6+A.0))+(a.(X6+B.0)+a.(X6+C.0)))", "3=a.(X6+D.0)", "6=((t.0+a.0)+(b.0+c.0))");
+        Due.is("a1 a2 a3 a4 a5 a6 a7 a8 a9", "nine answers", () -> x.steps(1, 0));
+        String due = "<a>(<c>T&(<b>T&(!<A>T&(!<B>T&(!<C>T&(!<D>T&(!<d>T&(<t>T&<a>T))))))))";
+        Due.is(due, "nine sentences", () -> x.sentence(0, 0, 1, 0, false));
+        Due.is("<a>!<c>T", "nine steps to begin with", () -> x.sentence(1, 0, 0, 0, false));
+        Due.is("0a1>1 0c2>-", "nine answers, each parted as late", () -> x.game(0, 0, 1, 0));
+        Due.is(true, "isSound", x::isSound);
+        String less = "((X1+X2)+((a.X6+a.b.X6)+(a.b.b.X6+a.b.b.b.X6)))";
+        Twotalk y = two("(" + less + "+a.X7)", less, "5=b.b.b.b.b.0", "6=b.b.b.b.b.X5",
+                "1=((a.0+a.b.0)+(a.b.b.0+(a.b.b.b.0+a.b.b.b.b.0)))",
+                "2=((a.X5+a.b.X5)+(a.b.b.X5+(a.b.b.b.X5+a.b.b.b.b.X5)))", "7=b.X7");
+        int[] rows = {0, 5, 10, 1, 6, 11, 2, 7, 12, 3, 8, 13, 4, 9};
+        StringBuilder all = new StringBuilder("<a>");
+        for (int i = 0; i < rows.length; i++) {
+            all.append(i < rows.length - 1 ? "(" : "").append("<b>".repeat(rows[i] + 1)).append("T");
+            all.append(i < rows.length - 1 ? "&" : ")".repeat(i));
+        }
+        Due.is(all.toString(), "a sentence for each of 14 answers", () -> y.sentence(0, 0, 1, 0, false));
+        Due.is("!" + all, "back, without an act of its own", () -> y.sentence(1, 0, 0, 0, false));
+        Due.is(371, "its length", () -> y.sentence(0, 0, 1, 0, true).length());
+        Due.is("0a4>12 0b4>9 0b4>6 0b4>3 0b4>14 0b4>11 0b4>8 0b4>5 0b4>2 0b4>13 0b4>10 0b4>7 0b4>4 0b4>1 0b4>-",
+                "the answer is parted latest", () -> y.game(0, 0, 1, 0));
+        Due.is(true, "isSound", y::isSound);
+    }
+
     private static void games(String there, String back, String one, String other, String... lines) {
         Twotalk x = two(one, other, lines);
         Due.is(there, "game of " + one + " and " + other, () -> x.game(0, 0, 1, 0));
@@ -277,6 +428,29 @@ public final class LooksTest {
         Twotalk x = two("a.t.0", "a.0");
         Due.is("0a1>1 0t2>-", "game of those alike by unseen", () -> x.game(0, 0, 1, 0));
         Due.fails(Due.ELEMENT, x, "game of those alike by steps", () -> x.game(0, 2, 1, 1));
+    }
+
+    /** "to that of those for which both are PARTED latest (the first of these)", also of later rounds, on both sides */
+    private static void gameOfLaterRounds() {
+        games("0a1>1 0b3>3 0c4>-", "0a1>1 0b3>3 1c4>-", "(a.b.c.0+a.d.0)", "(a.b.0+a.d.0)");
+        games("0a2>1 0b4>4 0c3>-", "0a1>2 0b4>4 1c3>-", "(a.b.c.0+a.X5)", "((a.(b.0|0)+a.X5)+a.b.0)", "5=d.0");
+        games("0a2>2 0b4>3 0c3>-", "0a2>2 0b3>4 1c3>-", "(a.b.c.0+a.X5)", "(a.X5+a.b.0)", "5=d.0");
+        games("1a2>1 0b2>-", "0a2>1 0d3>-", "a.b.c.0", "(a.b.0+a.d.0)");
+        games("0d1>1 0a2>3 0b4>4 0c6>-", "0d1>1 0a3>2 0b4>4 1c6>-", "d.(a.(b.c.0|0)+a.X5)", "d.(a.X5+a.b.0)", "5=d.0");
+        games("0d1>1 1a4>3 0b4>6 1c5>-", "0d1>1 0a4>3 0b6>4 0c5>-", "d.(a.X5+a.b.0)",
+                "d.(a.X5+(a.b.0+a.b.c.0))", "5=d.0");
+        games("0d1>1 0d2>2 0a3>4 0b5>5 0c7>-", "0d1>1 0d2>2 0a4>3 0b5>5 1c7>-", "d.d.(a.(b.c.0|0)+a.X5)",
+                "d.d.(a.X5+a.b.0)", "5=d.0");
+        Twotalk x = two("d.(a.(b.c.0|0)+a.X5)", "d.(a.X5+a.b.0)", "5=d.0");
+        Due.is("0a2>3 0b4>4 0c6>-", "game from the states 1", () -> x.game(0, 1, 1, 1));
+        Due.is("0a3>2 0b4>4 1c6>-", "game from the states 1, back", () -> x.game(1, 1, 0, 1));
+        Due.is("0b4>4 0c6>-", "game from 2 and 3", () -> x.game(0, 2, 1, 3));
+        Due.is("0b4>4 1c6>-", "game from 3 and 2", () -> x.game(1, 3, 0, 2));
+        Due.is("0c6>-", "game from the states 4", () -> x.game(0, 4, 1, 4));
+        Due.is("1c6>-", "game from the states 4, back", () -> x.game(1, 4, 0, 4));
+        Due.is("0d1>-", "game from 0 and 1 of one graph", () -> x.game(0, 0, 0, 1));
+        Due.is("0a2>-", "game from 1 and 0 of one graph", () -> x.game(0, 1, 0, 0));
+        Due.fails(Due.ELEMENT, x, "game from 3 and 2, which are alike", () -> x.game(0, 3, 1, 2));
     }
 
     private static void classes() {

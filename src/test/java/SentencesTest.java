@@ -99,8 +99,9 @@ public final class SentencesTest {
         Twotalk x = new Twotalk();
         Due.fails(Due.ELEMENT, x, "depth of none", x::depth);
         String[] all = {"T", "!!T", "<a>T", "(T&[a]T)", "(<a>T&<b>T)", "!<a>!{b}[c]T", "({t}{t}{t}T&[a]T)",
-            "([a]T&{t}{t}{t}T)", "<b>([a]T&({t}(T&<c>T)&!T))"};
-        int[] due = {0, 0, 1, 1, 1, 3, 3, 3, 3};
+            "([a]T&{t}{t}{t}T)", "<b>([a]T&({t}(T&<c>T)&!T))", "((<a><a>T&T)&<b>T)", "((<a>T&<b>T)&([c][c][c]T&T))",
+            "([a]((T&{b}{c}T)&T)&(T&(T&<d>T)))"};
+        int[] due = {0, 0, 1, 1, 1, 3, 3, 3, 3, 2, 3, 3};
         for (int i = 0; i < all.length; i++) {
             Due.say(x, all[i]);
             Due.is(due[i], "depth of " + all[i], x::depth);
@@ -170,5 +171,11 @@ public final class SentencesTest {
         where(x, "[t]<c>T", "1234");
         where(x, "[D]!T", "01234");
         where(x, "<a>(<a>T&[t]<b>T)", "0");
+        where(x, "((<a>T&<t>T)&<a><a>T)", "0");
+        where(x, "((<a>T&!<b>T)&(<t>T&[a]!<a>T))", "2");
+        where(x, "(((<a>T&T)&<t>T)&!<a><a>T)", "2");
+        where(x, "((T&!<a>T)&!(<b>T&T))", "34");
+        where(x, "(T&(!<a>T&(!<b>T&!<c>T)))", "4");
+        where(x, "!((!<b>T&!<c>T)&(!<a>T&!<t>T))", "0123");
     }
 }

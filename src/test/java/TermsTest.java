@@ -16,6 +16,7 @@ public final class TermsTest {
         tell();
         meant();
         isGuarded();
+        isGuardedByWayOfEach();
         Due.end();
     }
 
@@ -209,6 +210,12 @@ public final class TermsTest {
         Due.is("b.0", "the later one is meant", () -> x.meant(7));
         Due.is("a1", "a graph that is made stays", () -> x.steps(2, 0));
         Due.is(1, "one name is told", () -> x.house(1));
+        String[] unguarded = {"X3", "X4", "(X3|X3)", "a.0", "X3"};
+        for (int i = 0; i < unguarded.length; i++) {
+            int before = i > 0 ? 1 : 0;
+            Due.put(x, unguarded[i]);
+            Due.is(before, "tell of X3, guarded or not", () -> x.tell(3));
+        }
     }
 
     private static void meant() {
@@ -267,6 +274,25 @@ public final class TermsTest {
         Due.is(false, "and comes back later", () -> x.isGuarded(0));
         for (int k : new int[] {-1, 8, Integer.MAX_VALUE, Integer.MIN_VALUE}) {
             Due.fails(Due.INDEX, x, "isGuarded(" + k + ")", () -> x.isGuarded(k));
+        }
+    }
+
+    /** From each name by each other one to each third one: that one decides, whichever numbers they have. */
+    private static void isGuardedByWayOfEach() {
+        for (int all = 0; all < 8 * 8 * 8; all++) {
+            int first = all / 64;
+            int second = all / 8 % 8;
+            int third = all % 8;
+            if (first == second || second == third || first == third) {
+                continue;
+            }
+            String one = first + "=X" + second;
+            String other = second + "=X" + third;
+            guarded("", one, other);
+            guarded("", one, other, third + "=X" + third);
+            guarded("", one, other, third + "=X" + first);
+            guarded("" + third, one, second + "=(X" + second + "|X" + third + ")", third + "=0");
+            guarded("" + first + second + third, one, other, third + "=t.X" + first);
         }
     }
 }

@@ -1,3 +1,5 @@
+import java.util.TreeSet;
+
 /** Promises 35 to 38: tests of a graph by another one, forms and their proofs. */
 public final class TrialsTest {
     private static final int[] NO_GRAPH = {-1, 4, Integer.MIN_VALUE, Integer.MAX_VALUE};
@@ -5,8 +7,11 @@ public final class TrialsTest {
     public static void main(String[] args) {
         may();
         mayAndMust();
+        mustOnALongWay();
+        mayOnALongWay();
         wrongGraphs();
         form();
+        formOfManyItems();
         formBound();
         proof();
         wrongStates();
@@ -80,6 +85,37 @@ public final class TrialsTest {
         Due.is(false, "two places never hold three", () -> x.may(0, 3));
     }
 
+    /** One goes round after 23 acts, the other one after six; they stand at their last acts first after 138. */
+    private static void mustOnALongWay() {
+        String tested = "0=" + "a.".repeat(22) + "b.X0";
+        String[] ends = {"(A.X2+B.d.0)", "(A.X2+(B.d.0+B.0))", "(A.X2+B.0)", "(A.X2+B.t.t.d.0)", "A.X2"};
+        boolean[] may = {true, true, false, true, false};
+        boolean[] must = {true, false, false, true, false};
+        for (int i = 0; i < ends.length; i++) {
+            trial(may[i], must[i], "X0", "X2", tested, "2=(A.X3+B.X3)", "3=(A.X4+B.X4)", "4=(A.X5+B.X5)",
+                    "5=(A.X6+B.X6)", "6=(A.X7+B.X7)", "7=" + ends[i]);
+        }
+    }
+
+    /** One goes round after 11 acts, by states of falling numbers, the other one after ten, or after 11, too. */
+    private static void mayOnALongWay() {
+        String[] rows = new String[12];
+        for (int k = 1; k <= 11; k++) {
+            rows[k] = "a.".repeat(k) + "X0";
+        }
+        String[] lines = {"0=((X1+X2)+((X3+X4)+(" + rows[11] + "+b.0)))",
+            "1=((c." + rows[1] + "+c." + rows[2] + ")+(c." + rows[3] + "+c." + rows[4] + "))",
+            "2=(c." + rows[5] + "+c." + rows[6] + ")", "3=(c." + rows[7] + "+c." + rows[8] + ")",
+            "4=(c." + rows[9] + "+c." + rows[10] + ")", "5=" + "A.".repeat(9) + "(A.X5+B.d.0)",
+            "6=" + "A.".repeat(10) + "(A.X6+B.d.0)"};
+        Twotalk x = Due.house(lines);
+        Due.graph(x, 3, "X0");
+        Due.is("a1 b2 c1 c3 c4 c5 c6 c7 c8 c9 c10 c11", "steps", () -> x.steps(3, 0));
+        Due.is("a11, a0, a10", "its way back", () -> x.steps(3, 1) + ", " + x.steps(3, 3) + ", " + x.steps(3, 11));
+        trial(true, false, "X0", "X5", lines);
+        trial(false, false, "X0", "X6", lines);
+    }
+
     private static void wrongGraphs() {
         Twotalk x = new Twotalk();
         for (int n : NO_GRAPH) {
@@ -121,6 +157,29 @@ public final class TrialsTest {
         Due.fails(Due.ARGUMENT, x, "a row from it goes on for ever", () -> x.proof(2, 0));
         Due.is("d.0", "no row from that one does", () -> x.form(2, 2));
         Due.is("3=0;2=d3", "no row from that one does", () -> x.proof(2, 2));
+    }
+
+    /** As many items as may stand in 200 signs: each act ahead of each of the four shortest forms. */
+    private static void formOfManyItems() {
+        String[] behind = {"0", "a.0", "b.0", "c.0"};
+        TreeSet<String> items = new TreeSet<>();
+        StringBuilder proof = new StringBuilder("1=0;2=a1;3=b1;4=c1;0=");
+        for (char act : "ABCDabcdt".toCharArray()) {
+            for (int i = 0; i < behind.length; i++) {
+                items.add(act + "." + behind[i]);
+                proof.append(proof.length() > 22 ? "+" : "").append(act).append(i + 1);
+            }
+        }
+        String[] lines = {"0=" + allOn("0"), "1=" + allOn("X5"), "2=" + allOn("X6"), "3=" + allOn("X7"),
+            "4=((t.0+t.X5)+(t.X6+t.X7))", "5=a.0", "6=b.0", "7=c.0"};
+        String form = String.join("+", items);
+        Due.is(197, "its length", form::length);
+        forms(form, proof.toString(), "((X4+X4)+((X3+X2)+(X1+X0)))", lines);
+    }
+
+    private static String allOn(String to) {
+        String text = "(((a.@+b.@)+(c.@+d.@))+((A.@+B.@)+(C.@+D.@)))";
+        return text.replace("@", to);
     }
 
     /** A form of the length 7 for each name, and one that is twice as long on each floor above. */

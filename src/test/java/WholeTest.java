@@ -64,6 +64,16 @@ public final class WholeTest {
             int asked = k;
             Due.is(true, "example " + k, () -> x.example(asked) > 0 && x.isSound());
         }
+        for (int n = 0; n < 4; n++) {
+            Twotalk y = new Twotalk();
+            int more = n;
+            for (int m = 0; m < 4; m++) {
+                Due.graph(y, m, m == n ? "((a.b.0+a.c.0)+a.(b.0+c.0))" : "(a.b.0+a.c.0)");
+            }
+            Due.is(true, "one that can do more than three others", y::isSound);
+            Due.is("<a>(<c>T&<b>T)", "what parts it", () -> y.sentence(more, 0, (more + 1) % 4, 0, false));
+            Due.is("!<a>(<c>T&<b>T)", "what parts others", () -> y.sentence((more + 1) % 4, 0, more, 0, false));
+        }
         Due.graph(x, 2, "((a.b.0+a.c.0)+a.(b.0+t.c.0))");
         Due.graph(x, 3, "a.(b.0+(c.0+(b.0|0)))");
         String terms = x.term(0, 0) + x.term(1, 0) + x.term(2, 0) + x.term(3, 0);
