@@ -28,6 +28,7 @@ public final class BoundsOfGraphsTest {
         thingsOfManyTerms();
         thingsOfManyTexts();
         thingsBesideMany();
+        sizeBesideMany();
         thingsOfATermInIt();
         thingsOfWhatANameMeans();
         thingsBehindAStep();
@@ -341,6 +342,19 @@ public final class BoundsOfGraphsTest {
         }
     }
 
+    /** "SIZE 48 of each": also as there is much that is hidden beside it */
+    private static void sizeBesideMany() {
+        String[] lines = sixEach();
+        lines[5] = "5=" + "(".repeat(15) + "(((X0+X1)+(X2+X3))+X4)" + ":bb)".repeat(14) + "-a)";
+        lines[6] = "6=a." + STILL_23.substring(2, STILL_23.length() - 6);
+        lines[7] = "7=0";
+        keeps(4, "states up to the size 47", topped("(X5|(X6|X6))", lines));
+        keeps(4, "states up to the size 48", topped("((X5|(X6|X6))-d)", lines));
+        breaks("a state of the size 49", topped("(((X5|(X6|X6))-d)-d)", lines));
+        keeps(4, "states up to the size 48, turned", topped("(((X6|X6)|X5):cd)", lines));
+        breaks("a state of the size 49, turned", topped("((((X6|X6)|X5):cd):cd)", lines));
+    }
+
     /** All terms and steps of the graph that is made of the top, with another sign in the place of one of each. */
     private static String whole(Edge.House house, String sign, String before) {
         Twotalk x = house.made();
@@ -418,12 +432,12 @@ public final class BoundsOfGraphsTest {
         Edge.refused(Due.STATE, "a ninth", full, Twotalk::nil);
     }
 
-    /** "An object is used for at most 512 calls": two for each of many graphs, each of near to as much as may be */
+    /** "An object is used for at most 512 calls": some 220 for many graphs, each of near to as much as may be */
     private static void graphsWithoutAnEnd() {
         String most = "(((X0+X1)+(X2+X3))+((X4+X5)+X6))";
         Edge.House house = wide("(((((((((" + most + ":aa)".repeat(9), "((((((((((" + most + ":bb)".repeat(10));
-        Edge.allowed("8 8 56", "the last of 200 graphs", house, x -> {
-            for (int i = 0; i < 199; i++) {
+        Edge.allowed("8 8 56", "the last of 110 graphs", house, x -> {
+            for (int i = 0; i < 109; i++) {
                 x.name(7);
                 x.graph(i % 4);
             }

@@ -151,8 +151,8 @@ public final class BoundsOfWholeTest {
     private static void digestWrapsAround() {
         Edge.House trials = () -> rows("0", "a.0", "A.d.0", "(A.t.d.0+t.0)");
         Edge.House[] all = {Twotalk::new, () -> Due.house("3=a.(X3|0)", "7=X7"), trials,
-            BoundsOfWholeTest::unlikeByEachLook, BoundsOfWholeTest::full, BoundsOfWholeTest::small, example(0), example(1),
-            example(2), example(3), example(4)};
+            BoundsOfWholeTest::unlikeByEachLook, BoundsOfWholeTest::full, BoundsOfWholeTest::small,
+            example(0), example(1), example(2), example(3), example(4)};
         boolean isBelowZero = false;
         for (int i = 0; i < all.length; i++) {
             BigInteger whole = wholeDigest(all[i]);

@@ -18,6 +18,7 @@ public final class GraphsTest {
         graphOfManyThings();
         example();
         smallest();
+        smallestByEachAct();
         ofGraph();
         ofState();
         steps();
@@ -166,15 +167,17 @@ public final class GraphsTest {
 
     /** A graph has nothing of those that it or another one had ahead of it. */
     private static void graphAsOneOfNone() {
-        Twotalk x = Due.house("0=t.X0", "1=(t.X1+(a.X1+D.X1))");
         String[] ahead = {"t.t.t.t.t.X0", "t.X1", "((a.b.0+t.c.0)|(a.0+B.0))", "a.b.c.d.A.B.C.D.t.0"};
         for (int turn = 0; turn < 3 * ahead.length; turn++) {
-            Due.graph(x, turn % 2, ahead[turn % ahead.length]);
-            Due.graph(x, 1 - turn % 2, ahead[(turn + 1) % ahead.length]);
+            Twotalk x = Due.house("0=t.X0", "1=(t.X1+(a.X1+D.X1))");
+            for (int i = 0; i < 3; i++) {
+                Due.graph(x, (turn + i) % 2, ahead[(turn + i) % ahead.length]);
+            }
             for (int n = 0; n < 4; n++) {
                 int graph = n;
                 Due.is(2, "states of c.0", () -> Due.graph(x, graph, "c.0"));
-                Due.is("c1//0", "its steps", () -> x.steps(graph, 0) + "/" + x.steps(graph, 1) + "/" + x.term(graph, 1));
+                Due.is("c1/", "its steps", () -> all(x, graph));
+                Due.is("c.0/0", "its terms", () -> terms(x, graph));
                 Due.is("1", "which are still", () -> x.which(graph, false));
                 Due.is("", "which diverge", () -> x.which(graph, true));
                 Due.is("1 8 0 0 2 1", "facts of its first state", () -> facts(x, graph, 0));
@@ -411,13 +414,6 @@ public final class GraphsTest {
         Due.is("t1 a2 b3 c3///c1", "before", () -> all(x, 3));
         x.smallest(3, 1);
         Due.is("t1 a1 b2 c2//c1", "numbered as they first come", () -> all(x, 1));
-        for (char act : "tabcdABCD".toCharArray()) {
-            Due.graph(x, 3, "(" + act + ".b.0+" + act + ".(b.0|0))");
-            Due.is(act + "1 " + act + "2/b3/b4//", "before", () -> all(x, 3));
-            Due.is(3, "smallest, by " + act, () -> x.smallest(3, 1));
-            Due.is(act + "1/b2/", "its steps", () -> all(x, 1));
-            Due.is("(b.0|0)/(0|0)", "its terms", () -> rest(x, 1));
-        }
         Due.told(x, "0=a.X1", "1=a.X0");
         Due.graph(x, 0, "(X0|X1)");
         Due.is(1, "one that goes round", () -> x.smallest(0, 3));
@@ -425,6 +421,17 @@ public final class GraphsTest {
         for (int n : NO_GRAPH) {
             Due.fails(Due.INDEX, x, "smallest of " + n, () -> x.smallest(n, 0));
             Due.fails(Due.INDEX, x, "smallest to " + n, () -> x.smallest(0, n));
+        }
+    }
+
+    private static void smallestByEachAct() {
+        for (char act : "tabcdABCD".toCharArray()) {
+            Twotalk x = new Twotalk();
+            Due.graph(x, 3, "(" + act + ".b.0+" + act + ".(b.0|0))");
+            Due.is(act + "1 " + act + "2/b3/b4//", "before", () -> all(x, 3));
+            Due.is(3, "smallest, by " + act, () -> x.smallest(3, 1));
+            Due.is(act + "1/b2/", "its steps", () -> all(x, 1));
+            Due.is("(b.0|0)/(0|0)", "its terms", () -> rest(x, 1));
         }
     }
 

@@ -8,6 +8,7 @@ public final class SentencesTest {
         depth();
         isTrue();
         isTrueOfEachKind();
+        isTrueOfBoth();
         Due.end();
     }
 
@@ -171,6 +172,12 @@ public final class SentencesTest {
         where(x, "[t]<c>T", "1234");
         where(x, "[D]!T", "01234");
         where(x, "<a>(<a>T&[t]<b>T)", "0");
+    }
+
+    /** "both" of two that are "both" themselves, below and above. */
+    private static void isTrueOfBoth() {
+        Twotalk x = Due.house("0=(a.X0+t.b.X1)", "1=(t.c.0+a.0)");
+        Due.graph(x, 0, "X0");
         where(x, "((<a>T&<t>T)&<a><a>T)", "0");
         where(x, "((<a>T&!<b>T)&(<t>T&[a]!<a>T))", "2");
         where(x, "(((<a>T&T)&<t>T)&!<a><a>T)", "2");
