@@ -219,22 +219,16 @@ public final class Twotalk {
         }
         if (k == 0) {
             tellAll("aCX0", "cBX1", "aX3", "+aX4BX2", "BX3");
-            makeOne(0, "-c|X0X1");
-            makeOne(1, "X2");
         } else if (k == 1) {
             tellAll("AcBX0", "AdBX1", "abX2", "+tctX3tdtX3", "");
-            makeOne(0, "-b-a||X0X1X2");
-            makeOne(1, "X3");
-        } else if (k == 2) {
-            makeOne(0, "a+b0c0");
-            makeOne(1, "+ab0ac0");
         } else if (k == 3) {
             tellAll("tX0", "+tX1a0", "", "", "");
-            makeOne(0, "|X0a0");
-            makeOne(1, "X1");
-        } else {
-            makeOne(0, "+a0+tb0b0");
-            makeOne(1, "+a0tb0");
+        }
+        for (int n = 0; n < 2; n++) {
+            draft.read(exampleTerm(k, n));
+            if (unfolding.build(draft, names, guardedNames, lone[0])) {
+                takeLone(n);
+            }
         }
         return graphs[0].count + graphs[1].count;
     }
@@ -242,7 +236,7 @@ public final class Twotalk {
     public int smallest(int n, int to) throws IndexOutOfBoundsException {
         checkGraph(n);
         checkGraph(to);
-        shrink(n);
+        lone[0].shrink(graphs[n], fresh(STEPS), n * STATES);
         takeLone(to);
         return graphs[to].count;
     }
@@ -304,10 +298,18 @@ public final class Twotalk {
         }
     }
 
-    private void makeOne(int n, String signs) {
-        draft.read(signs);
-        if (unfolding.build(draft, names, guardedNames, lone[0])) {
-            takeLone(n);
+    private static String exampleTerm(int k, int n) {
+        switch (k) {
+            case 0:
+                return n == 0 ? "-c|X0X1" : "X2";
+            case 1:
+                return n == 0 ? "-b-a||X0X1X2" : "X3";
+            case 2:
+                return n == 0 ? "a+b0c0" : "+ab0ac0";
+            case 3:
+                return n == 0 ? "|X0a0" : "X1";
+            default:
+                return n == 0 ? "+a0+tb0b0" : "+a0tb0";
         }
     }
 
@@ -319,10 +321,6 @@ public final class Twotalk {
         for (int i = 0; i < rounds.length; i++) {
             rounds[i].isStale = true;
         }
-    }
-
-    private void shrink(int n) {
-        lone[0].shrink(graphs[n], fresh(STEPS), n * STATES);
     }
 
     private static int countOf(Graph graph, int what) {
@@ -689,7 +687,7 @@ public final class Twotalk {
     }
 
     private boolean isShrunkRight(int n) {
-        shrink(n);
+        lone[0].shrink(graphs[n], fresh(STEPS), n * STATES);
         loneRounds.isStale = true;
         loneRounds.refresh(lone);
         return loneRounds.alikePairs() == 0 && lone[0].count == fresh(STEPS).unlikeOf(n * STATES);
@@ -828,7 +826,7 @@ public final class Twotalk {
         }
 
         static char letter(int act) {
-            return act >= 0 && act < ACTS ? LETTERS.charAt(act) : '?';
+            return act == 0 ? 't' : (char) (act > CHANNELS ? 'A' + act - CHANNELS - 1 : 'a' + act - 1);
         }
 
         static int channel(int act) {
@@ -1111,10 +1109,12 @@ public final class Twotalk {
                 return NONE;
             }
             int head = headOf(sign, first, second);
-            for (int node = heads[head]; node >= 0 && node < count; node = next[node]) {
-                if (code[node] == sign && left[node] == first && right[node] == second) {
-                    return node;
+            int known = heads[head];
+            for (int turn = 0; turn < count && known >= 0 && known < count; turn++) {
+                if (code[known] == sign && left[known] == first && right[known] == second) {
+                    return known;
                 }
+                known = next[known];
             }
             if (count >= code.length && !grow()) {
                 return NONE;
@@ -1642,13 +1642,13 @@ public final class Twotalk {
                     top--;
                     truths[top - 1] &= truths[top];
                 } else if (top >= 1) {
-                    truths[top - 1] = whereTrue(code, truths[top - 1]);
+                    truths[top - 1] = whereTrueAround(code, truths[top - 1]);
                 }
             }
             return truths[0];
         }
 
-        private int whereTrue(int code, int set) {
+        private int whereTrueAround(int code, int set) {
             if (code >= Sign.WEAK) {
                 return ahead(set, code - Sign.WEAK, weak);
             }
@@ -1961,10 +1961,12 @@ public final class Twotalk {
         private boolean put(int here, int there, int from, int act) {
             int mix = here * 0x9E3779B1 + there * 0x85EBCA6B;
             int head = (mix ^ mix >>> 15) & HEADS - 1;
-            for (int at = heads[head]; at >= 0 && at < count; at = next[at]) {
+            int at = heads[head];
+            for (int turn = 0; turn < count && at >= 0 && at < count; turn++) {
                 if (one[at] == here && other[at] == there) {
                     return true;
                 }
+                at = next[at];
             }
             if (count >= PAIRS) {
                 return false;
