@@ -244,7 +244,8 @@ public final class GraphsTest {
 
     private static void graphWithoutNames() {
         Twotalk x = Due.house("0=(a.0+X0)", "1=a.X5", "2=X5", "3=b.X0");
-        String[] all = {"X5", "a.X5", "(a.0|X5)", "((b.0+X5)-a)", "X0", "a.X0", "X1", "X2", "X3", "(X5:ab)", "a.b.(0|X2)"};
+        String[] all = {
+            "X5", "a.X5", "(a.0|X5)", "((b.0+X5)-a)", "X0", "a.X0", "X1", "X2", "X3", "(X5:ab)", "a.b.(0|X2)"};
         Due.graph(x, 2, "d.0");
         for (String each : all) {
             Due.put(x, each);

@@ -1,4 +1,6 @@
 import java.io.IOException;
+import java.lang.reflect.Constructor;
+import java.lang.reflect.Executable;
 import java.lang.reflect.Field;
 import java.lang.reflect.Method;
 import java.lang.reflect.Modifier;
@@ -9,6 +11,7 @@ import java.util.ArrayList;
 import java.util.HashSet;
 import java.util.List;
 import java.util.Set;
+import java.util.TreeSet;
 import java.util.regex.Matcher;
 import java.util.regex.Pattern;
 
@@ -17,8 +20,61 @@ public final class LanguageTest {
     private static final String[] FORBIDDEN = {
         "\\btry\\b", "\\bcatch\\b", "\\bfinally\\b", "\\bassert\\b", "\\bsynchronized\\b", "->", "::", "\\.random\\b",
         "\\bSystem\\.(?!arraycopy)", "Exact\\b", "TEXT\\s*\\+", "\\+\\s*TEXT", "\\bThread\\b", "\\bNaN\\b", "\\bvar\\b",
-        "\\bequals\\(", "hashCode", "toString\\(\\)(?!;)", "getMessage", "\\[\\]\\[\\]\\s*\\w+\\s*=\\s*new (?!int|long)",
+        "\\bequals\\(", "hashCode", "toString\\(\\)(?!;)", "getMessage",
+        "\\[\\]\\[\\]\\s*\\w+\\s*=\\s*new (?!int|long)",
         "numberOfTrailingZeros", "\\bpackage\\b"};
+
+    /** The document's "public face", line by line, without the names of parameters. */
+    private static final String FACE = """
+            public Twotalk();
+            public int nil() throws IllegalStateException;
+            public int name(int) throws IndexOutOfBoundsException, IllegalStateException;
+            public int step(int) throws IndexOutOfBoundsException, IllegalStateException;
+            public int either() throws IllegalStateException;
+            public int beside() throws IllegalStateException;
+            public int hide(int) throws IndexOutOfBoundsException, IllegalStateException;
+            public int rename(int, int) throws IndexOutOfBoundsException, IllegalStateException;
+            public int drop() throws IllegalStateException;
+            public String text(int) throws IndexOutOfBoundsException;
+            public int tell(int) throws IndexOutOfBoundsException, IllegalStateException;
+            public String meant(int) throws IndexOutOfBoundsException;
+            public boolean isGuarded(int) throws IndexOutOfBoundsException;
+            public int graph(int) throws IndexOutOfBoundsException, IllegalStateException, IllegalArgumentException;
+            public int example(int) throws IndexOutOfBoundsException;
+            public int smallest(int, int) throws IndexOutOfBoundsException;
+            public int ofGraph(int, int) throws IndexOutOfBoundsException, IllegalArgumentException;
+            public int ofState(int, int, int) throws IndexOutOfBoundsException, IllegalArgumentException;
+            public String steps(int, int) throws IndexOutOfBoundsException;
+            public String term(int, int) throws IndexOutOfBoundsException;
+            public String which(int, boolean) throws IndexOutOfBoundsException;
+            public boolean isEverAgain(int, int) throws IndexOutOfBoundsException;
+            public boolean isAlike(int, int, int, int, int) \
+            throws IndexOutOfBoundsException, IllegalArgumentException, IllegalStateException;
+            public int round(int, int, int, int, boolean) throws IndexOutOfBoundsException;
+            public String word(int, int, int, int) \
+            throws IndexOutOfBoundsException, IllegalStateException, NoSuchElementException;
+            public String refusal(int, int, int, int) \
+            throws IndexOutOfBoundsException, IllegalStateException, NoSuchElementException;
+            public String sentence(int, int, int, int, boolean) \
+            throws IndexOutOfBoundsException, NoSuchElementException, IllegalStateException;
+            public String game(int, int, int, int) throws IndexOutOfBoundsException, NoSuchElementException;
+            public String classes(int, int) throws IndexOutOfBoundsException, IllegalArgumentException;
+            public int say(int, int) throws IllegalArgumentException, IndexOutOfBoundsException, IllegalStateException;
+            public int unsay() throws NoSuchElementException;
+            public String said() throws NoSuchElementException;
+            public int depth() throws NoSuchElementException;
+            public boolean isTrue(int, int) throws IndexOutOfBoundsException, NoSuchElementException;
+            public boolean may(int, int) throws IndexOutOfBoundsException;
+            public boolean must(int, int) throws IndexOutOfBoundsException;
+            public String form(int, int) \
+            throws IndexOutOfBoundsException, IllegalArgumentException, IllegalStateException;
+            public String proof(int, int) \
+            throws IndexOutOfBoundsException, IllegalArgumentException, IllegalStateException;
+            public int knock();
+            public int house(int) throws IllegalArgumentException;
+            public boolean isSound();
+            public long digest();
+            """;
 
     public static void main(String[] args) throws IOException {
         Path path = Path.of("src", "main", "java", "Twotalk.java");
@@ -26,6 +82,7 @@ public final class LanguageTest {
         words(source);
         lengths(source);
         faces();
+        faceOfTheDocument();
         Due.end();
     }
 
@@ -64,6 +121,35 @@ public final class LanguageTest {
         int width = widest;
         Due.is(true, "methods of " + length + " lines", () -> length > 10 && length <= 60);
         Due.is(true, "lines of " + width + " signs", () -> width <= 120);
+    }
+
+    /** "one public class with the document's face" */
+    private static void faceOfTheDocument() {
+        Set<String> due = new TreeSet<>(List.of(FACE.strip().split("\n")));
+        Set<String> got = new TreeSet<>();
+        for (Constructor<?> each : Twotalk.class.getConstructors()) {
+            got.add("public " + each.getName() + typesOf(each));
+        }
+        for (Method each : Twotalk.class.getDeclaredMethods()) {
+            if (Modifier.isPublic(each.getModifiers())) {
+                got.add("public " + each.getReturnType().getSimpleName() + " " + each.getName() + typesOf(each));
+            }
+        }
+        Due.is(42, "promises of the face", due::size);
+        Due.is(due.toString(), "the face", got::toString);
+        Due.is(true, "public and final", () -> Twotalk.class.getModifiers() == (Modifier.PUBLIC | Modifier.FINAL));
+    }
+
+    private static String typesOf(Executable each) {
+        StringBuilder text = new StringBuilder("(");
+        for (Class<?> type : each.getParameterTypes()) {
+            text.append(text.length() > 1 ? ", " : "").append(type.getSimpleName());
+        }
+        text.append(")");
+        for (Class<?> type : each.getExceptionTypes()) {
+            text.append(text.indexOf("throws") < 0 ? " throws " : ", ").append(type.getSimpleName());
+        }
+        return text.append(";").toString();
     }
 
     private static void faces() {

@@ -10,7 +10,7 @@ import java.util.Map;
 import java.util.Random;
 import java.util.TreeMap;
 
-/** Random runs of calls, each asked of the class and of the oracle; every answer and every exception has to be alike. */
+/** Random runs of calls, each asked of the class and of the oracle; all answers and exceptions have to be alike. */
 public final class RandomRunsTest {
     private static final int CALLS = 500;
     private static final int[] ODD = {-1, Integer.MIN_VALUE, Integer.MAX_VALUE, 4, 8, 9, 10, 24, 100};
@@ -225,7 +225,8 @@ public final class RandomRunsTest {
         if (style == 9) {
             return random.nextInt(5) == 0 ? 2 : random.nextInt(8) == 0 ? 0 : 1;
         }
-        return style == 4 || style == 8 ? 1 + random.nextInt(2) : style == 7 ? 1 + random.nextInt(3) : random.nextInt(5);
+        boolean isShort = style == 4 || style == 8;
+        return isShort ? 1 + random.nextInt(2) : style == 7 ? 1 + random.nextInt(3) : random.nextInt(5);
     }
 
     /** Tells one name anew at times, and makes a graph of one, or of two side by side. */
@@ -287,8 +288,8 @@ public final class RandomRunsTest {
 
     private void askAny() {
         String[] plain = {"text", "meant", "isGuarded", "ofGraph", "ofState", "steps", "term", "which", "isEverAgain",
-            "isAlike", "isAlike", "round", "word", "refusal", "sentence", "sentence", "game", "classes", "unsay", "said",
-            "depth", "isTrue", "isTrue", "may", "must", "form", "proof", "knock", "house", "isSound", "drop"};
+            "isAlike", "isAlike", "round", "word", "refusal", "sentence", "sentence", "game", "classes", "unsay",
+            "said", "depth", "isTrue", "isTrue", "may", "must", "form", "proof", "knock", "house", "isSound", "drop"};
         String call = plain[random.nextInt(plain.length)];
         switch (call) {
             case "text" -> ask(call, small(3));

@@ -1,6 +1,7 @@
 import java.io.IOException;
 import java.lang.reflect.InvocationTargetException;
 import java.lang.reflect.Method;
+import java.lang.reflect.Modifier;
 import java.nio.charset.StandardCharsets;
 import java.nio.file.Files;
 import java.nio.file.Path;
@@ -27,7 +28,10 @@ public final class ReadmeTest {
                 Due.is(false, "a call that can't be read: " + line, () -> line.startsWith("    house."));
             }
         }
-        Due.is(true, "most calls are shown: " + shown.size(), () -> shown.size() >= 35);
+        for (Method method : Twotalk.class.getDeclaredMethods()) {
+            boolean isPublic = Modifier.isPublic(method.getModifiers());
+            Due.is(isPublic, method.getName() + " is shown", () -> shown.contains(method.getName()));
+        }
         Due.end();
     }
 
