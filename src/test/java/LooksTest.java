@@ -286,7 +286,15 @@ public final class LooksTest {
         words(null, "b:10", "b.(a.0+((t.c.0+t.(c.0+D.0))+(t.D.0+t.a.D.0)))", "b.(a.0+(t.(c.0+D.0)+(t.a.D.0+c.0)))");
         words(null, "ab:256", "a.(b.D.0+b.0)", "a.b.D.0");
         words(null, null, "(a.b.c.0+a.b.d.0)", "a.(b.c.0+b.d.0)");
+        refusalOfTheSmallestNumber();
         words(null, null, "X0", "t.X0", "0=(t.X0+a.0)");
+    }
+
+    /** "the smallest set of SEEN ACTS (as a number)": of a and b (6), though that of c alone (8) has fewer acts */
+    private static void refusalOfTheSmallestNumber() {
+        words(null, ":6", "(t.(b.0+c.0)+t.(a.0+c.0))", "((t.(b.0+c.0)+t.(a.0+c.0))+t.0)");
+        words(null, "d:12", "d.(t.(A.0+b.0)+t.(c.0+A.0))", "(d.(t.(A.0+b.0)+t.(c.0+A.0))+d.A.0)");
+        words(null, ":14", "X0", "(X0+t.0)", "0=((t.(a.0+D.0)+t.(b.0+D.0))+t.(c.0+D.0))");
     }
 
     private static void sentences(String there, String back, String one, String other, String... lines) {
