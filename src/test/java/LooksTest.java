@@ -16,6 +16,7 @@ public final class LooksTest {
         sentence();
         sentenceUnseen();
         sentenceLength();
+        sentenceOfLikeAnswers();
         sentenceOfManyAnswers();
         game();
         gameOfLaterRounds();
@@ -381,6 +382,16 @@ public final class LooksTest {
         Due.graph(x, 1, "(a.(a.X4+a.X5)+a.(a.X3+a.X4))");
         Due.is(400, "400 signs", () -> x.sentence(0, 0, 1, 0, false).length());
         Due.fails(Due.STATE, x, "401 signs", () -> x.sentence(1, 0, 0, 0, false));
+    }
+
+    /** "each one but once": of two answers, to which two more come each time, all by the same sentence */
+    private static void sentenceOfLikeAnswers() {
+        Twotalk x = two("a.".repeat(20) + "0", "X0", "0=(a.X0+a.X1)", "1=(a.X1+a.X0)");
+        Due.is("a0 a1, a0 a1", "two answers each time", () -> x.steps(1, 0) + ", " + x.steps(1, 1));
+        Due.is("<a>".repeat(20) + "!<a>T", "what has an end", () -> x.sentence(0, 0, 1, 0, false));
+        Due.is("<a>".repeat(21) + "T", "what has none", () -> x.sentence(1, 0, 0, 0, false));
+        Due.is("{a}".repeat(20) + "!{a}T", "what has an end, unseen", () -> x.sentence(0, 0, 1, 0, true));
+        Due.is(true, "isSound", x::isSound);
     }
 
     /** "the SENTENCES that part p' from q', each one but once", for the q' by rising numbers */

@@ -74,6 +74,8 @@ public final class TrialsTest {
         trial(true, false, "X0", "A.A.A.(t.d.0+t.0)", "0=a.X0");
         trial(true, true, "((a.0|A.b.0)-a)", "B.d.0");
         trial(true, true, "(t.a.0+t.(a.0+b.0))", "A.d.0");
+        trial(true, true, "0", "(t.X0+t.t.X0)", "0=d.X0");
+        trial(true, false, "0", "(t.X0+t.t.X0)", "0=(t.X0+t.d.X0)");
         Twotalk x = new Twotalk();
         x.example(0);
         Due.graph(x, 2, "A.A.c.d.0");
@@ -221,6 +223,8 @@ public final class TrialsTest {
         forms("a.(b.0+c.0)+b.0+t.(b.0+c.0)", "3=0;1=b3+c3;0=a1+b3+t1", "((t.X0+a.(X0|0))+b.0)", "0=(b.0+c.0)");
         forms("a.b.0+c.b.0", "3=0;1=b3;0=a1+c1", "(c.(0|b.0)+a.b.0)");
         forms("a.b.0", "3=0;1=b3;0=a1", "(a.(0|b.0)+a.b.0)");
+        forms("a.(a.0+b.0)+b.a.0", "3=0;1=a3+b3;2=a3;0=a1+b2", "(a.(a.0+b.0)+b.a.0)");
+        forms("a.a.0+b.(a.0+b.0)", "3=0;1=a3;2=a3+b3;0=a1+b2", "(b.(a.0+b.0)+a.a.0)");
         Twotalk x = new Twotalk();
         Due.graph(x, 0, "a.b.c.d.A.B.C.D.a.b.c.(a.0+b.c.0)");
         Due.is("12=0;13=c12;11=a12+b13;10=c11;9=b10;8=a9;7=D8;6=C7;5=B6;4=A5;3=d4;2=c3;1=b2;0=a1",

@@ -74,6 +74,13 @@ public final class WholeTest {
             Due.is("<a>(<c>T&<b>T)", "what parts it", () -> y.sentence(more, 0, (more + 1) % 4, 0, false));
             Due.is("!<a>(<c>T&<b>T)", "what parts others", () -> y.sentence((more + 1) % 4, 0, more, 0, false));
         }
+        Twotalk z = new Twotalk();
+        for (int m = 0; m < 4; m++) {
+            Due.graph(z, m, m % 2 == 0 ? "t.a.0" : "(t.a.0+a.0)");
+        }
+        Due.is("!<a>T, <a>T", "a step, and no weak one", () -> z.sentence(0, 0, 1, 0, false) + ", "
+                + z.sentence(1, 0, 2, 0, false));
+        Due.is(true, "what is true by steps, and not by weak ones", z::isSound);
         Due.graph(x, 2, "((a.b.0+a.c.0)+a.(b.0+t.c.0))");
         Due.graph(x, 3, "a.(b.0+(c.0+(b.0|0)))");
         String terms = x.term(0, 0) + x.term(1, 0) + x.term(2, 0) + x.term(3, 0);
